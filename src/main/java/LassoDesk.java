@@ -17,7 +17,6 @@ public final class LassoDesk {
     private static final int MAX_STATES = LETTERS << MAX_TEMPORALS;
 
     private final Line line;
-    private final Reader reader;
     private final Lasting lastingStates;
     private final Walk walk;
     private final GivenWord word;
@@ -28,7 +27,6 @@ public final class LassoDesk {
 
     public LassoDesk() {
         line = new Line();
-        reader = new Reader(line);
         lastingStates = new Lasting();
         walk = new Walk();
         word = new GivenWord();
@@ -47,7 +45,7 @@ public final class LassoDesk {
     }
 
     public int formula() throws IllegalArgumentException {
-        boolean isFormula = reader.read(draft);
+        boolean isFormula = line.readInto(draft);
         line.clear();
         if (!isFormula) {
             throw new IllegalArgumentException("the line is no formula");
@@ -196,16 +194,28 @@ public final class LassoDesk {
         return sign == 'X' || sign == 'F' || sign == 'G' || sign == 'U' || sign == 'R';
     }
 
-    /** The line that is typed. */
+    /**
+     * The line that is typed, and its reading by descent. A call of the reading goes deeper only
+     * behind a character that it has taken, or by the few levels from a bracket to what stands in
+     * it: a line of 18 characters, with four open brackets at most, keeps the calls that stand open
+     * at once below sixty.
+     */
     private static final class Line {
         private static final int BYTES = 4;
+        private static final int CHAIN = 0;
+        private static final int EITHER = 1;
+        private static final int BOTH = 2;
+        private static final int LONG = 3;
+        private static final int SIMPLE = 4;
 
         private final char[] characters;
         private int length;
+        private int at;
 
         Line() {
             characters = new char[MAX_LINE];
             length = 0;
+            at = 0;
         }
 
         static int countTyped(int four) {
@@ -245,16 +255,12 @@ public final class LassoDesk {
             length = 0;
         }
 
-        int length() {
-            return length;
-        }
-
         /** The character at a place, 0 behind the end: no character of a line is 0. */
-        int signAt(int place) {
+        private int signAt(int place) {
             return place >= 0 && place < length ? characters[place] : 0;
         }
 
-        int temporalsBefore(int place) {
+        private int temporalsBefore(int place) {
             int count = 0;
             for (int i = 0; i < place; i++) {
                 if (isTemporal(signAt(i))) {
@@ -263,37 +269,16 @@ public final class LassoDesk {
             }
             return count;
         }
-    }
-
-    /**
-     * Reads the line by descent. A call goes deeper only behind a character that it has taken, or by
-     * one of the few levels between two brackets: a line of 18 characters, of which four at most
-     * are brackets that are open at once, keeps it below forty.
-     */
-    private static final class Reader {
-        private static final int CHAIN = 0;
-        private static final int EITHER = 1;
-        private static final int BOTH = 2;
-        private static final int LONG = 3;
-        private static final int SIMPLE = 4;
-
-        private final Line line;
-        private int at;
-
-        Reader(Line line) {
-            this.line = line;
-            at = 0;
-        }
 
         /** Whether the whole line is a formula, which then stands in the one handed over. */
-        boolean read(Formula into) {
+        boolean readInto(Formula into) {
             into.clear();
             at = 0;
-            if (line.temporalsBefore(line.length()) > MAX_TEMPORALS) {
+            if (temporalsBefore(length) > MAX_TEMPORALS) {
                 return false;
             }
             int whole = readLevel(into, CHAIN, 0);
-            if (whole == NONE || at != line.length()) {
+            if (whole == NONE || at != length) {
                 return false;
             }
             into.listPromises();
@@ -309,19 +294,19 @@ public final class LassoDesk {
                 return readSimple(into, brackets);
             }
             int first = readLevel(into, level + 1, brackets);
-            int sign = line.signAt(at);
+            int sign = signAt(at);
             if (first == NONE || levelJoinedBy(sign) != level) {
                 return first;
             }
-            int number = line.temporalsBefore(at);
+            int number = temporalsBefore(at);
             at++;
             int rest = readLevel(into, level, brackets);
             return rest == NONE ? NONE : into.add(sign, first, rest, number);
         }
 
         private int readSimple(Formula into, int brackets) {
-            int sign = line.signAt(at);
-            int number = line.temporalsBefore(at);
+            int sign = signAt(at);
+            int number = temporalsBefore(at);
             at++;
             switch (sign) {
                 case '0': case '1': case 'a': case 'b': case 'c':
@@ -338,7 +323,7 @@ public final class LassoDesk {
 
         private int readBracket(Formula into, int brackets) {
             int inner = readLevel(into, CHAIN, brackets);
-            if (line.signAt(at) != ')') {
+            if (signAt(at) != ')') {
                 return NONE;
             }
             at++;
@@ -580,7 +565,6 @@ public final class LassoDesk {
         private final int[] pending;
         private final boolean[] whole;
         private final boolean[] inSet;
-        private final boolean[] hasNext;
         private final int[] steps;
         private final int[] queue;
         private int states;
@@ -593,7 +577,6 @@ public final class LassoDesk {
             pending = new int[MAX_STATES];
             whole = new boolean[MAX_STATES];
             inSet = new boolean[MAX_STATES];
-            hasNext = new boolean[1 << MAX_TEMPORALS];
             steps = new int[MAX_TEMPORALS * MAX_STATES];
             queue = new int[MAX_STATES];
             states = 0;
@@ -633,15 +616,16 @@ public final class LassoDesk {
             }
         }
 
+        /** Of the 32 rows of expectations at most, a bit says which one some state of the set needs. */
         private void sweepDeadEnds() {
-            Arrays.fill(hasNext, false);
+            int answered = 0;
             for (int state = 0; state < states; state++) {
                 if (inSet[state]) {
-                    hasNext[needed[state]] = true;
+                    answered |= 1 << needed[state];
                 }
             }
             for (int state = 0; state < states; state++) {
-                if (inSet[state] && !hasNext[state >> LETTER_BITS]) {
+                if (inSet[state] && !hasBit(answered, state >> LETTER_BITS)) {
                     takeAway(state);
                 }
             }

@@ -12,10 +12,10 @@ public final class ModelTest {
     private static long seed = 20261115L;
 
     public static void main(String[] args) {
-        for (int run = 0; run < 1500; run++) {
+        for (int run = 0; run < 800; run++) {
             compareRun(run);
         }
-        for (int i = 0; i < 1500; i++) {
+        for (int i = 0; i < 1000; i++) {
             compareWhole(randomFormula(5));
         }
         for (String line : shortLines()) {
