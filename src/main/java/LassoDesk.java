@@ -73,7 +73,7 @@ public final class LassoDesk {
         requireFormula();
         requireState(from);
         requireState(to);
-        return from >> LETTER_BITS == current.expectedBefore(current.partsAt(to));
+        return (from >> LETTER_BITS) == current.expectedBefore(current.partsAt(to));
     }
 
     public boolean lasts(int state) throws IllegalStateException, IndexOutOfBoundsException {
@@ -187,7 +187,7 @@ public final class LassoDesk {
     }
 
     private static boolean hasBit(int bits, int i) {
-        return (bits >> i & 1) != 0;
+        return ((bits >> i) & 1) != 0;
     }
 
     private static boolean isTemporal(int sign) {
@@ -237,7 +237,7 @@ public final class LassoDesk {
         }
 
         private static int byteOf(int four, int i) {
-            return four >>> 8 * i & 255;
+            return (four >>> (8 * i)) & 255;
         }
 
         boolean append(int four, int count) {
@@ -463,7 +463,7 @@ public final class LassoDesk {
                 case 'G':
                     return q && expected;
                 case 'U':
-                    return q || p && expected;
+                    return q || (p && expected);
                 case 'R':
                     return q && (p || expected);
                 default:
@@ -538,7 +538,7 @@ public final class LassoDesk {
                 case '|':
                     return p | q;
                 case '>':
-                    return all & ~p | q;
+                    return (all & ~p) | q;
                 case 'X':
                     return word.placesBefore(q);
                 case 'F':
@@ -711,8 +711,8 @@ public final class LassoDesk {
             boolean isPending = hasBit(pending[state], duty);
             int best = NONE;
             for (int to = 0; to < states; to++) {
-                boolean leadsThere = inSet[to] && needed[to] == state >> LETTER_BITS;
-                if (leadsThere && (best == NONE || isPending && isNearer(to, best, duty))) {
+                boolean leadsThere = inSet[to] && needed[to] == (state >> LETTER_BITS);
+                if (leadsThere && (best == NONE || (isPending && isNearer(to, best, duty)))) {
                     best = to;
                 }
             }
@@ -814,14 +814,14 @@ public final class LassoDesk {
 
         int replace(int k, int letter) {
             int old = letters[k];
-            letters[k] = letter & LETTERS - 1;
+            letters[k] = letter & (LETTERS - 1);
             return old;
         }
 
         void take(Walk walk) {
             reshape(walk.stemLength(), walk.loopLength());
             for (int i = 0; i < size(); i++) {
-                letters[i] = walk.stateAt(i) & LETTERS - 1;
+                letters[i] = walk.stateAt(i) & (LETTERS - 1);
             }
         }
 
@@ -850,15 +850,15 @@ public final class LassoDesk {
 
         /** The places whose next place is one of these. */
         int placesBefore(int these) {
-            int beforeLoop = hasBit(these, stemLength) ? 1 << size() - 1 : 0;
-            return these >> 1 | beforeLoop;
+            int beforeLoop = hasBit(these, stemLength) ? 1 << (size() - 1) : 0;
+            return (these >> 1) | beforeLoop;
         }
 
         /** Goes back from the goals as often as the word has places: then no place can be added. */
         int placesUntil(int through, int goals) {
             int so = goals;
             for (int i = 0; i < size(); i++) {
-                so = goals | through & placesBefore(so);
+                so = goals | (through & placesBefore(so));
             }
             return so;
         }

@@ -39,8 +39,10 @@ public final class FaceTest {
             addSeen(found, made.getModifiers(), made.toGenericString());
         }
         boolean good = true;
+        Set<String> names = new TreeSet<>();
         for (Method method : LassoDesk.class.getDeclaredMethods()) {
             addSeen(found, method.getModifiers(), method.toGenericString());
+            good &= isGood(method.getName(), names.add(method.getName()), "two methods bear this name");
         }
         good &= isGood("the face", found.equals(due), "found " + found);
         int modifiers = LassoDesk.class.getModifiers();
