@@ -2,9 +2,6 @@ import java.util.function.IntPredicate;
 
 /** Promises 1 to 18, one after the other: ordinary inputs, the edges that the document names, wrong inputs. */
 public final class PromisesTest {
-    private static int wrong = 0;
-    private static int promise = 0;
-
     public static void main(String[] args) {
         newObject();
         type();
@@ -33,133 +30,130 @@ public final class PromisesTest {
         holdsOrdinary();
         holdsTemporal();
         holdsWrong();
-        System.out.println(wrong == 0 ? "all answers are as due" : wrong + " answers are not as due");
-        if (wrong != 0) {
-            System.exit(1);
-        }
+        Due.end();
     }
 
     // ---- 1
 
     private static void newObject() {
-        promise = 1;
+        Due.sentence("promise 1");
         LassoDesk desk = new LassoDesk();
         throwsNoFormula(desk);
-        due("letter(0)", desk.letter(0), 0);
-        due("letter(1000)", desk.letter(1000), 0);
-        outside("set(1, 7): one letter only", () -> desk.set(1, 7));
-        due("set(0, 1)", desk.set(0, 1), 0);
-        due("letter(17): the one letter is the loop", desk.letter(17), 1);
-        illegal("formula(): the line is empty", desk::formula);
+        Due.due("letter(0)", desk.letter(0), 0);
+        Due.due("letter(1000)", desk.letter(1000), 0);
+        Due.outside("set(1, 7): one letter only", () -> desk.set(1, 7));
+        Due.due("set(0, 1)", desk.set(0, 1), 0);
+        Due.due("letter(17): the one letter is the loop", desk.letter(17), 1);
+        Due.illegal("formula(): the line is empty", desk::formula);
         LassoDesk other = new LassoDesk();
-        due("letter(0) of another object", other.letter(0), 0);
+        Due.due("letter(0) of another object", other.letter(0), 0);
     }
 
     private static void throwsNoFormula(LassoDesk desk) {
-        noFormula("states()", desk::states);
-        noFormula("isAt(0)", () -> desk.isAt(0));
-        noFormula("isAt(-1)", () -> desk.isAt(-1));
-        noFormula("leads(0, 0)", () -> desk.leads(0, 0));
-        noFormula("leads(-1, 0)", () -> desk.leads(-1, 0));
-        noFormula("leads(0, 999)", () -> desk.leads(0, 999));
-        noFormula("lasts(0)", () -> desk.lasts(0));
-        noFormula("lasts(-1)", () -> desk.lasts(-1));
-        noFormula("lasting()", desk::lasting);
-        noFormula("promises()", desk::promises);
-        noFormula("can()", desk::can);
-        noFormula("stem()", desk::stem);
-        noFormula("loop()", desk::loop);
-        noFormula("step(0)", () -> desk.step(0));
-        noFormula("step(-1)", () -> desk.step(-1));
-        noFormula("adopt()", desk::adopt);
-        noFormula("holds(0)", () -> desk.holds(0));
-        noFormula("holds(-1)", () -> desk.holds(-1));
+        Due.noState("states()", desk::states);
+        Due.noState("isAt(0)", () -> desk.isAt(0));
+        Due.noState("isAt(-1)", () -> desk.isAt(-1));
+        Due.noState("leads(0, 0)", () -> desk.leads(0, 0));
+        Due.noState("leads(-1, 0)", () -> desk.leads(-1, 0));
+        Due.noState("leads(0, 999)", () -> desk.leads(0, 999));
+        Due.noState("lasts(0)", () -> desk.lasts(0));
+        Due.noState("lasts(-1)", () -> desk.lasts(-1));
+        Due.noState("lasting()", desk::lasting);
+        Due.noState("promises()", desk::promises);
+        Due.noState("can()", desk::can);
+        Due.noState("stem()", desk::stem);
+        Due.noState("loop()", desk::loop);
+        Due.noState("step(0)", () -> desk.step(0));
+        Due.noState("step(-1)", () -> desk.step(-1));
+        Due.noState("adopt()", desk::adopt);
+        Due.noState("holds(0)", () -> desk.holds(0));
+        Due.noState("holds(-1)", () -> desk.holds(-1));
     }
 
     // ---- 2
 
     private static void type() {
-        promise = 2;
+        Due.sentence("promise 2");
         LassoDesk desk = new LassoDesk();
-        due("type(F)", desk.type(codes('F', 0, 0, 0)), true);
-        due("type(a|b)", desk.type(codes('a', '|', 'b', 0)), true);
-        due("type(|c|a)", desk.type(codes('|', 'c', '|', 'a')), true);
-        due("formula() of Fa|b|c|a", desk.formula(), 8);
-        due("at a state where only b is so", desk.isAt(2), true);
-        due("at a state where nothing is so", desk.isAt(0), false);
-        desk.type(codes('a', '>', 'b', 0));
+        Due.due("type(F)", desk.type(Due.codes('F', 0, 0, 0)), true);
+        Due.due("type(a|b)", desk.type(Due.codes('a', '|', 'b', 0)), true);
+        Due.due("type(|c|a)", desk.type(Due.codes('|', 'c', '|', 'a')), true);
+        Due.due("formula() of Fa|b|c|a", desk.formula(), 8);
+        Due.due("at a state where only b is so", desk.isAt(2), true);
+        Due.due("at a state where nothing is so", desk.isAt(0), false);
+        desk.type(Due.codes('a', '>', 'b', 0));
         desk.formula();
-        due("the lowest byte is first: a>b at a alone", desk.isAt(1), false);
-        due("the lowest byte is first: a>b at b alone", desk.isAt(2), true);
-        due("type(0) puts nothing", desk.type(0), true);
-        illegal("so the line is empty", desk::formula);
-        due("what is behind a 0 is not looked at", desk.type(codes('a', 0, 200, 32)), true);
-        due("and not put", desk.formula(), 1);
-        due("a 0 in front", desk.type(codes(0, 'a', 'b', 31)), true);
-        illegal("puts nothing", desk::formula);
-        due("33 and 126 are characters", desk.type(codes(33, 126, 33, 126)), true);
-        illegal("but no formula", desk::formula);
+        Due.due("the lowest byte is first: a>b at a alone", desk.isAt(1), false);
+        Due.due("the lowest byte is first: a>b at b alone", desk.isAt(2), true);
+        Due.due("type(0) puts nothing", desk.type(0), true);
+        Due.illegal("so the line is empty", desk::formula);
+        Due.due("what is behind a 0 is not looked at", desk.type(Due.codes('a', 0, 200, 32)), true);
+        Due.due("and not put", desk.formula(), 1);
+        Due.due("a 0 in front", desk.type(Due.codes(0, 'a', 'b', 31)), true);
+        Due.illegal("puts nothing", desk::formula);
+        Due.due("33 and 126 are characters", desk.type(Due.codes(33, 126, 33, 126)), true);
+        Due.illegal("but no formula", desk::formula);
     }
 
     private static void typeLimit() {
         LassoDesk desk = new LassoDesk();
         for (int i = 0; i < 4; i++) {
-            due("four more", desk.type(codes('!', '!', '!', '!')), true);
+            Due.due("four more", desk.type(Due.codes('!', '!', '!', '!')), true);
         }
-        due("16 + 3 are too many", desk.type(codes('!', 'b', 'a', 0)), false);
-        due("16 + 4 are too many", desk.type(codes('!', 'b', 'a', 'a')), false);
-        due("16 + 2 are not", desk.type(codes('!', 'a', 0, 0)), true);
-        due("18 + 1 are too many", desk.type(codes('a', 0, 0, 0)), false);
-        due("18 + 0 are not", desk.type(0), true);
-        illegal("a wrong character comes before too many", () -> desk.type(codes('a', 32, 0, 0)));
-        due("formula(): nothing was changed", desk.formula(), 18);
-        due("seventeen times not a", desk.isAt(0), true);
-        due("seventeen times not a, at a", desk.isAt(1), false);
+        Due.due("16 + 3 are too many", desk.type(Due.codes('!', 'b', 'a', 0)), false);
+        Due.due("16 + 4 are too many", desk.type(Due.codes('!', 'b', 'a', 'a')), false);
+        Due.due("16 + 2 are not", desk.type(Due.codes('!', 'a', 0, 0)), true);
+        Due.due("18 + 1 are too many", desk.type(Due.codes('a', 0, 0, 0)), false);
+        Due.due("18 + 0 are not", desk.type(0), true);
+        Due.illegal("a wrong character comes before too many", () -> desk.type(Due.codes('a', 32, 0, 0)));
+        Due.due("formula(): nothing was changed", desk.formula(), 18);
+        Due.due("seventeen times not a", desk.isAt(0), true);
+        Due.due("seventeen times not a, at a", desk.isAt(1), false);
     }
 
     private static void typeWrongCharacters() {
         LassoDesk desk = new LassoDesk();
-        desk.type(codes('a', '&', 0, 0));
+        desk.type(Due.codes('a', '&', 0, 0));
         for (int code : new int[] {1, 9, 31, 32, 127, 128, 200, 255}) {
-            illegal("first " + code, () -> desk.type(codes(code, 'b', 'b', 'b')));
-            illegal("second " + code, () -> desk.type(codes('b', code, 0, 0)));
-            illegal("third " + code, () -> desk.type(codes('b', 'b', code, 0)));
-            illegal("fourth " + code, () -> desk.type(codes('b', 'b', 'b', code)));
+            Due.illegal("first " + code, () -> desk.type(Due.codes(code, 'b', 'b', 'b')));
+            Due.illegal("second " + code, () -> desk.type(Due.codes('b', code, 0, 0)));
+            Due.illegal("third " + code, () -> desk.type(Due.codes('b', 'b', code, 0)));
+            Due.illegal("fourth " + code, () -> desk.type(Due.codes('b', 'b', 'b', code)));
         }
-        illegal("type(-1)", () -> desk.type(-1));
-        illegal("type(MIN_VALUE + b)", () -> desk.type(Integer.MIN_VALUE | codes('b', 'b', 'b', 0)));
-        desk.type(codes('b', 0, 0, 0));
-        due("formula(): the line had stayed", desk.formula(), 3);
+        Due.illegal("type(-1)", () -> desk.type(-1));
+        Due.illegal("type(MIN_VALUE + b)", () -> desk.type(Integer.MIN_VALUE | Due.codes('b', 'b', 'b', 0)));
+        desk.type(Due.codes('b', 0, 0, 0));
+        Due.due("formula(): the line had stayed", desk.formula(), 3);
     }
 
     // ---- 3
 
     private static void formulaCountsParts() {
-        promise = 3;
-        parts("0", 1);
-        parts("1", 1);
-        parts("a", 1);
-        parts("b", 1);
-        parts("c", 1);
-        parts("(a)", 1);
-        parts("!a", 2);
-        parts("XFG!a", 5);
-        parts("a&b", 3);
-        parts("a&b&c&a", 7);
-        parts("a|b|c", 5);
-        parts("a>b>c>0", 7);
-        parts("aUbRc", 5);
-        parts("Fa>Gb|Xc&!1", 11);
-        parts("((((a))))", 1);
-        parts("(((a)))&((((b))))", 3);
-        parts("!(X(F(G(a))))", 5);
-        parts("a|a|a|a|a|a|a|a|!a", 18);
-        parts("!!!!!!!!!!!!!!!!!a", 18);
-        parts("a>a>a>a>a>a>a>a>!a", 18);
-        parts("XXXXXa", 6);
-        parts("aUbUcUaUbUc", 11);
-        parts("XFGUa", -1);
-        parts("XFG(aUb)Rc", 8);
+        Due.sentence("promise 3");
+        Due.formulaIs("0", 1);
+        Due.formulaIs("1", 1);
+        Due.formulaIs("a", 1);
+        Due.formulaIs("b", 1);
+        Due.formulaIs("c", 1);
+        Due.formulaIs("(a)", 1);
+        Due.formulaIs("!a", 2);
+        Due.formulaIs("XFG!a", 5);
+        Due.formulaIs("a&b", 3);
+        Due.formulaIs("a&b&c&a", 7);
+        Due.formulaIs("a|b|c", 5);
+        Due.formulaIs("a>b>c>0", 7);
+        Due.formulaIs("aUbRc", 5);
+        Due.formulaIs("Fa>Gb|Xc&!1", 11);
+        Due.formulaIs("((((a))))", 1);
+        Due.formulaIs("(((a)))&((((b))))", 3);
+        Due.formulaIs("!(X(F(G(a))))", 5);
+        Due.formulaIs("a|a|a|a|a|a|a|a|!a", 18);
+        Due.formulaIs("!!!!!!!!!!!!!!!!!a", 18);
+        Due.formulaIs("a>a>a>a>a>a>a>a>!a", 18);
+        Due.formulaIs("XXXXXa", 6);
+        Due.formulaIs("aUbUcUaUbUc", 11);
+        Due.noFormula("XFGUa");
+        Due.formulaIs("XFG(aUb)Rc", 8);
     }
 
     private static void formulaRefuses() {
@@ -169,218 +163,220 @@ public final class PromisesTest {
             "(((((a)))))", "((((())))", "((((()))))", "(((((", "((((((a))))))", "a&(((((b)))))", "XXXXXXa", "aUbUcUaUbUcUa", "XFGXFGa", "x", "f", "u"};
         for (String line : none) {
             LassoDesk desk = new LassoDesk();
-            typeAll(desk, line);
-            illegal("formula() of " + line, desk::formula);
-            noFormula("states(), there is none still", desk::states);
+            Due.typeAll(desk, line);
+            Due.illegal("formula() of " + line, desk::formula);
+            Due.noState("states(), there is none still", desk::states);
             desk.type('b');
-            due("the line was empty behind " + line, desk.formula(), 1);
+            Due.due("the line was empty behind " + line, desk.formula(), 1);
         }
-        LassoDesk desk = deskOf("a&b");
-        illegal("the line is empty behind a formula", desk::formula);
+        LassoDesk desk = Due.deskOf("a&b");
+        Due.illegal("the line is empty behind a formula", desk::formula);
     }
 
     private static void formulaStays() {
-        LassoDesk desk = deskOf("Fa");
-        due("can()", desk.can(), true);
-        typeAll(desk, "XXXXXXb");
-        illegal("six temporal parts", desk::formula);
-        typeAll(desk, "Gb&Gc&");
-        illegal("no formula", desk::formula);
-        due("states() of Fa", desk.states(), 16);
-        due("lasting() of Fa", desk.lasting(), 16);
-        due("isAt(1) of Fa", desk.isAt(1), true);
-        due("step(0) of Fa", desk.step(0), 1);
-        typeAll(desk, "GFa");
-        due("another formula", desk.formula(), 3);
-        due("its states", desk.states(), 32);
-        due("its lasting ones", desk.lasting(), 24);
-        due("its first step", desk.step(0), 24);
-        typeAll(desk, "a&!a");
-        due("one that can't be", desk.formula(), 4);
-        due("its states", desk.states(), 8);
-        due("its walk", desk.stem(), LassoDesk.NONE);
+        LassoDesk desk = Due.deskOf("Fa");
+        Due.due("can()", desk.can(), true);
+        Due.typeAll(desk, "XXXXXXb");
+        Due.illegal("six temporal parts", desk::formula);
+        Due.typeAll(desk, "Gb&Gc&");
+        Due.illegal("no formula", desk::formula);
+        Due.due("states() of Fa", desk.states(), 16);
+        Due.due("lasting() of Fa", desk.lasting(), 16);
+        Due.due("isAt(1) of Fa", desk.isAt(1), true);
+        Due.due("step(0) of Fa", desk.step(0), 1);
+        Due.typeAll(desk, "GFa");
+        Due.due("another formula", desk.formula(), 3);
+        Due.due("its states", desk.states(), 32);
+        Due.due("its lasting ones", desk.lasting(), 24);
+        Due.due("its first step", desk.step(0), 24);
+        Due.typeAll(desk, "a&!a");
+        Due.due("one that can't be", desk.formula(), 4);
+        Due.due("its states", desk.states(), 8);
+        Due.due("its walk", desk.stem(), LassoDesk.NONE);
     }
 
     // ---- 4
 
     private static void states() {
-        promise = 4;
-        due("a", deskOf("a").states(), 8);
-        due("a&b>!c", deskOf("a&b>!c").states(), 8);
-        due("Xa", deskOf("Xa").states(), 16);
-        due("aUb", deskOf("aUb").states(), 16);
-        due("aRb&Fa", deskOf("aRb&Fa").states(), 32);
-        due("GFXa", deskOf("GFXa").states(), 64);
-        due("XXXXa", deskOf("XXXXa").states(), 128);
-        due("XFGaUbRc", deskOf("XFGaUbRc").states(), 256);
+        Due.sentence("promise 4");
+        Due.due("a", Due.deskOf("a").states(), 8);
+        Due.due("a&b>!c", Due.deskOf("a&b>!c").states(), 8);
+        Due.due("Xa", Due.deskOf("Xa").states(), 16);
+        Due.due("aUb", Due.deskOf("aUb").states(), 16);
+        Due.due("aRb&Fa", Due.deskOf("aRb&Fa").states(), 32);
+        Due.due("GFXa", Due.deskOf("GFXa").states(), 64);
+        Due.due("XXXXa", Due.deskOf("XXXXa").states(), 128);
+        Due.due("XFGaUbRc", Due.deskOf("XFGaUbRc").states(), 256);
     }
 
     // ---- 5
 
     private static void isAtOrdinary() {
-        promise = 5;
+        Due.sentence("promise 5");
         everyState("0", s -> false);
         everyState("1", s -> true);
-        everyState("a", s -> bit(s, 0));
-        everyState("b", s -> bit(s, 1));
-        everyState("c", s -> bit(s, 2));
-        everyState("!a", s -> !bit(s, 0));
-        everyState("a&b", s -> bit(s, 0) && bit(s, 1));
-        everyState("b|c", s -> bit(s, 1) || bit(s, 2));
-        everyState("a>c", s -> !bit(s, 0) || bit(s, 2));
-        everyState("!(a&b)|c", s -> !(bit(s, 0) && bit(s, 1)) || bit(s, 2));
+        everyState("a", s -> Due.bit(s, 0));
+        everyState("b", s -> Due.bit(s, 1));
+        everyState("c", s -> Due.bit(s, 2));
+        everyState("!a", s -> !Due.bit(s, 0));
+        everyState("a&b", s -> Due.bit(s, 0) && Due.bit(s, 1));
+        everyState("b|c", s -> Due.bit(s, 1) || Due.bit(s, 2));
+        everyState("a>c", s -> !Due.bit(s, 0) || Due.bit(s, 2));
+        everyState("!(a&b)|c", s -> !(Due.bit(s, 0) && Due.bit(s, 1)) || Due.bit(s, 2));
     }
 
     private static void isAtTemporal() {
-        everyState("Xa", s -> bit(s, 3));
-        everyState("Fa", s -> bit(s, 0) || bit(s, 3));
-        everyState("Gb", s -> bit(s, 1) && bit(s, 3));
-        everyState("aUb", s -> bit(s, 1) || bit(s, 0) && bit(s, 3));
-        everyState("aRb", s -> bit(s, 1) && (bit(s, 0) || bit(s, 3)));
-        everyState("XFa", s -> bit(s, 3));
-        everyState("FXa", s -> bit(s, 4) || bit(s, 3));
-        everyState("GFXGFa", s -> bit(s, 3) && (bit(s, 4) || bit(s, 5)));
-        everyState("!XXXXXa", s -> !bit(s, 3));
-        everyState("(Xa)>(Xb)&(Xc)", s -> !bit(s, 3) || bit(s, 4) && bit(s, 5));
+        everyState("Xa", s -> Due.bit(s, 3));
+        everyState("Fa", s -> Due.bit(s, 0) || Due.bit(s, 3));
+        everyState("Gb", s -> Due.bit(s, 1) && Due.bit(s, 3));
+        everyState("aUb", s -> Due.bit(s, 1) || Due.bit(s, 0) && Due.bit(s, 3));
+        everyState("aRb", s -> Due.bit(s, 1) && (Due.bit(s, 0) || Due.bit(s, 3)));
+        everyState("XFa", s -> Due.bit(s, 3));
+        everyState("FXa", s -> Due.bit(s, 4) || Due.bit(s, 3));
+        everyState("GFXGFa", s -> Due.bit(s, 3) && (Due.bit(s, 4) || Due.bit(s, 5)));
+        everyState("!XXXXXa", s -> !Due.bit(s, 3));
+        everyState("(Xa)>(Xb)&(Xc)", s -> !Due.bit(s, 3) || Due.bit(s, 4) && Due.bit(s, 5));
     }
 
     private static void isAtPrecedence() {
-        everyState("a>b>c", s -> !bit(s, 0) || !bit(s, 1) || bit(s, 2));
-        everyState("(a>b)>c", s -> bit(s, 0) && !bit(s, 1) || bit(s, 2));
-        everyState("a|b&c", s -> bit(s, 0) || bit(s, 1) && bit(s, 2));
-        everyState("a&b|c", s -> bit(s, 0) && bit(s, 1) || bit(s, 2));
-        everyState("(a|b)&c", s -> (bit(s, 0) || bit(s, 1)) && bit(s, 2));
-        everyState("a|b>c", s -> !(bit(s, 0) || bit(s, 1)) || bit(s, 2));
-        everyState("a>b|c", s -> !bit(s, 0) || bit(s, 1) || bit(s, 2));
-        everyState("!a|b", s -> !bit(s, 0) || bit(s, 1));
-        everyState("aUbRc", s -> bit(s, 2) && (bit(s, 1) || bit(s, 4)) || bit(s, 0) && bit(s, 3));
-        everyState("(aUb)Rc", s -> bit(s, 2) && (bit(s, 1) || bit(s, 0) && bit(s, 3) || bit(s, 4)));
-        everyState("aRbUc", s -> (bit(s, 2) || bit(s, 1) && bit(s, 4)) && (bit(s, 0) || bit(s, 3)));
-        everyState("FaUGb", s -> bit(s, 1) && bit(s, 5) || (bit(s, 0) || bit(s, 3)) && bit(s, 4));
-        everyState("F(aUb)", s -> bit(s, 1) || bit(s, 0) && bit(s, 4) || bit(s, 3));
-        everyState("aUb&c", s -> (bit(s, 1) || bit(s, 0) && bit(s, 3)) && bit(s, 2));
-        everyState("aU(b&c)", s -> bit(s, 1) && bit(s, 2) || bit(s, 0) && bit(s, 3));
-        everyState("a|bUc", s -> bit(s, 0) || bit(s, 2) || bit(s, 1) && bit(s, 3));
-        everyState("!aUb", s -> bit(s, 1) || !bit(s, 0) && bit(s, 3));
+        everyState("a>b>c", s -> !Due.bit(s, 0) || !Due.bit(s, 1) || Due.bit(s, 2));
+        everyState("(a>b)>c", s -> Due.bit(s, 0) && !Due.bit(s, 1) || Due.bit(s, 2));
+        everyState("a|b&c", s -> Due.bit(s, 0) || Due.bit(s, 1) && Due.bit(s, 2));
+        everyState("a&b|c", s -> Due.bit(s, 0) && Due.bit(s, 1) || Due.bit(s, 2));
+        everyState("(a|b)&c", s -> (Due.bit(s, 0) || Due.bit(s, 1)) && Due.bit(s, 2));
+        everyState("a|b>c", s -> !(Due.bit(s, 0) || Due.bit(s, 1)) || Due.bit(s, 2));
+        everyState("a>b|c", s -> !Due.bit(s, 0) || Due.bit(s, 1) || Due.bit(s, 2));
+        everyState("!a|b", s -> !Due.bit(s, 0) || Due.bit(s, 1));
+        everyState("aUbRc", s -> Due.bit(s, 2) && (Due.bit(s, 1) || Due.bit(s, 4)) || Due.bit(s, 0) && Due.bit(s, 3));
+        everyState("(aUb)Rc", s -> Due.bit(s, 2) && (Due.bit(s, 1) || Due.bit(s, 0) && Due.bit(s, 3) || Due.bit(s, 4)));
+        everyState("aRbUc", s -> (Due.bit(s, 2) || Due.bit(s, 1) && Due.bit(s, 4)) && (Due.bit(s, 0) || Due.bit(s, 3)));
+        everyState("FaUGb", s -> Due.bit(s, 1) && Due.bit(s, 5) || (Due.bit(s, 0) || Due.bit(s, 3)) && Due.bit(s, 4));
+        everyState("F(aUb)", s -> Due.bit(s, 1) || Due.bit(s, 0) && Due.bit(s, 4) || Due.bit(s, 3));
+        everyState("aUb&c", s -> (Due.bit(s, 1) || Due.bit(s, 0) && Due.bit(s, 3)) && Due.bit(s, 2));
+        everyState("aU(b&c)", s -> Due.bit(s, 1) && Due.bit(s, 2) || Due.bit(s, 0) && Due.bit(s, 3));
+        everyState("a|bUc", s -> Due.bit(s, 0) || Due.bit(s, 2) || Due.bit(s, 1) && Due.bit(s, 3));
+        everyState("!aUb", s -> Due.bit(s, 1) || !Due.bit(s, 0) && Due.bit(s, 3));
     }
 
     private static void everyState(String line, IntPredicate so) {
-        LassoDesk desk = deskOf(line);
-        for (int s = 0; s < desk.states(); s++) {
-            due(line + " at " + s, desk.isAt(s), so.test(s));
+        LassoDesk desk = Due.deskOf(line);
+        int states = desk.states();
+        for (int s = 0; s < states; s++) {
+            Due.due(line + " at " + s, desk.isAt(s), so.test(s));
         }
     }
 
     private static void isAtWrong() {
-        LassoDesk desk = deskOf("Fa");
-        outside("isAt(-1)", () -> desk.isAt(-1));
-        outside("isAt(16)", () -> desk.isAt(16));
-        outside("isAt(MIN_VALUE)", () -> desk.isAt(Integer.MIN_VALUE));
-        outside("isAt(MAX_VALUE)", () -> desk.isAt(Integer.MAX_VALUE));
-        due("isAt(15)", desk.isAt(15), true);
+        LassoDesk desk = Due.deskOf("Fa");
+        Due.outside("isAt(-1)", () -> desk.isAt(-1));
+        Due.outside("isAt(16)", () -> desk.isAt(16));
+        Due.outside("isAt(MIN_VALUE)", () -> desk.isAt(Integer.MIN_VALUE));
+        Due.outside("isAt(MAX_VALUE)", () -> desk.isAt(Integer.MAX_VALUE));
+        Due.due("isAt(15)", desk.isAt(15), true);
     }
 
     // ---- 6
 
     private static void leads() {
-        promise = 6;
-        LassoDesk next = deskOf("Xa");
-        LassoDesk nextSome = deskOf("XFa");
-        LassoDesk release = deskOf("aRb");
+        Due.sentence("promise 6");
+        LassoDesk next = Due.deskOf("Xa");
+        LassoDesk release = Due.deskOf("aRb");
         for (int s = 0; s < 32; s++) {
+            LassoDesk nextSome = Due.deskOf("XFa");
             for (int t = 0; t < 32; t++) {
                 if (s < 16 && t < 16) {
-                    due("Xa " + s + " to " + t, next.leads(s, t), bit(s, 3) == bit(t, 0));
-                    due("aRb " + s + " to " + t, release.leads(s, t), bit(s, 3) == (bit(t, 1) && (bit(t, 0) || bit(t, 3))));
+                    Due.due("Xa " + s + " to " + t, next.leads(s, t), Due.bit(s, 3) == Due.bit(t, 0));
+                    Due.due("aRb " + s + " to " + t, release.leads(s, t), Due.bit(s, 3) == (Due.bit(t, 1) && (Due.bit(t, 0) || Due.bit(t, 3))));
                 }
-                boolean some = bit(t, 0) || bit(t, 4);
-                due("XFa " + s + " to " + t, nextSome.leads(s, t), bit(s, 3) == some && bit(s, 4) == some);
+                boolean some = Due.bit(t, 0) || Due.bit(t, 4);
+                Due.due("XFa " + s + " to " + t, nextSome.leads(s, t), Due.bit(s, 3) == some && Due.bit(s, 4) == some);
             }
         }
-        LassoDesk plain = deskOf("a");
-        due("without temporal parts all lead to all", plain.leads(7, 0) && plain.leads(0, 7) && plain.leads(3, 3), true);
-        outside("leads(-1, 0)", () -> next.leads(-1, 0));
-        outside("leads(0, -1)", () -> next.leads(0, -1));
-        outside("leads(16, 0)", () -> next.leads(16, 0));
-        outside("leads(0, 16)", () -> next.leads(0, 16));
-        outside("leads(MAX_VALUE, 0)", () -> next.leads(Integer.MAX_VALUE, 0));
+        LassoDesk plain = Due.deskOf("a");
+        Due.due("without temporal parts all lead to all", plain.leads(7, 0) && plain.leads(0, 7) && plain.leads(3, 3), true);
+        Due.outside("leads(-1, 0)", () -> next.leads(-1, 0));
+        Due.outside("leads(0, -1)", () -> next.leads(0, -1));
+        Due.outside("leads(16, 0)", () -> next.leads(16, 0));
+        Due.outside("leads(0, 16)", () -> next.leads(0, 16));
+        Due.outside("leads(MAX_VALUE, 0)", () -> next.leads(Integer.MAX_VALUE, 0));
     }
 
     // ---- 7, 8
 
     private static void lasts() {
-        promise = 7;
+        Due.sentence("promise 7");
         everyLasts("a", s -> true);
         everyLasts("Fa", s -> true);
         everyLasts("Ga", s -> true);
         everyLasts("aUb", s -> true);
         everyLasts("aRb", s -> true);
         everyLasts("XXa", s -> true);
-        everyLasts("F0", s -> !bit(s, 3));
-        everyLasts("G1", s -> bit(s, 3));
-        everyLasts("aU0", s -> !bit(s, 3));
-        everyLasts("aR1", s -> bit(s, 3));
-        everyLasts("X1", s -> bit(s, 3));
-        everyLasts("X0", s -> !bit(s, 3));
-        everyLasts("X(a&!a)", s -> !bit(s, 3));
-        everyLasts("Fa&G!a", s -> bit(s, 3) != bit(s, 4));
-        everyLasts("XX0", s -> !bit(s, 3) && !bit(s, 4));
-        LassoDesk desk = deskOf("Fa");
-        outside("lasts(-1)", () -> desk.lasts(-1));
-        outside("lasts(16)", () -> desk.lasts(16));
-        outside("lasts(MIN_VALUE)", () -> desk.lasts(Integer.MIN_VALUE));
+        everyLasts("F0", s -> !Due.bit(s, 3));
+        everyLasts("G1", s -> Due.bit(s, 3));
+        everyLasts("aU0", s -> !Due.bit(s, 3));
+        everyLasts("aR1", s -> Due.bit(s, 3));
+        everyLasts("X1", s -> Due.bit(s, 3));
+        everyLasts("X0", s -> !Due.bit(s, 3));
+        everyLasts("X(a&!a)", s -> !Due.bit(s, 3));
+        everyLasts("Fa&G!a", s -> Due.bit(s, 3) != Due.bit(s, 4));
+        everyLasts("XX0", s -> !Due.bit(s, 3) && !Due.bit(s, 4));
+        LassoDesk desk = Due.deskOf("Fa");
+        Due.outside("lasts(-1)", () -> desk.lasts(-1));
+        Due.outside("lasts(16)", () -> desk.lasts(16));
+        Due.outside("lasts(MIN_VALUE)", () -> desk.lasts(Integer.MIN_VALUE));
     }
 
     private static void everyLasts(String line, IntPredicate so) {
-        LassoDesk desk = deskOf(line);
-        for (int s = 0; s < desk.states(); s++) {
-            due(line + " lasts " + s, desk.lasts(s), so.test(s));
+        LassoDesk desk = Due.deskOf(line);
+        int states = desk.states();
+        for (int s = 0; s < states; s++) {
+            Due.due(line + " lasts " + s, desk.lasts(s), so.test(s));
         }
     }
 
     private static void lasting() {
-        promise = 8;
-        due("a", deskOf("a").lasting(), 8);
-        due("Fa", deskOf("Fa").lasting(), 16);
-        due("F0", deskOf("F0").lasting(), 8);
-        due("Fa&G!a", deskOf("Fa&G!a").lasting(), 16);
-        due("GFa", deskOf("GFa").lasting(), 24);
-        due("XXXXXa", deskOf("XXXXXa").lasting(), 256);
-        due("XXXXX0", deskOf("XXXXX0").lasting(), 8);
+        Due.sentence("promise 8");
+        Due.due("a", Due.deskOf("a").lasting(), 8);
+        Due.due("Fa", Due.deskOf("Fa").lasting(), 16);
+        Due.due("F0", Due.deskOf("F0").lasting(), 8);
+        Due.due("Fa&G!a", Due.deskOf("Fa&G!a").lasting(), 16);
+        Due.due("GFa", Due.deskOf("GFa").lasting(), 24);
+        Due.due("XXXXXa", Due.deskOf("XXXXXa").lasting(), 256);
+        Due.due("XXXXX0", Due.deskOf("XXXXX0").lasting(), 8);
     }
 
     // ---- 9
 
     private static void promises() {
-        promise = 9;
-        due("a", deskOf("a").promises(), 0);
-        due("XXXXXa", deskOf("XXXXXa").promises(), 0);
-        due("Fa", deskOf("Fa").promises(), 1);
-        due("Ga", deskOf("Ga").promises(), 1);
-        due("aUb", deskOf("aUb").promises(), 1);
-        due("aRb", deskOf("aRb").promises(), 1);
-        due("XFXGa", deskOf("XFXGa").promises(), 2);
-        due("FGaUbRc>Fc", deskOf("FGaUbRc>Fc").promises(), 5);
+        Due.sentence("promise 9");
+        Due.due("a", Due.deskOf("a").promises(), 0);
+        Due.due("XXXXXa", Due.deskOf("XXXXXa").promises(), 0);
+        Due.due("Fa", Due.deskOf("Fa").promises(), 1);
+        Due.due("Ga", Due.deskOf("Ga").promises(), 1);
+        Due.due("aUb", Due.deskOf("aUb").promises(), 1);
+        Due.due("aRb", Due.deskOf("aRb").promises(), 1);
+        Due.due("XFXGa", Due.deskOf("XFXGa").promises(), 2);
+        Due.due("FGaUbRc>Fc", Due.deskOf("FGaUbRc>Fc").promises(), 5);
     }
 
     // ---- 10
 
     private static void can() {
-        promise = 10;
+        Due.sentence("promise 10");
         for (String line : new String[] {"a", "1", "!0", "Fa", "Ga", "GFa&GF!a", "FGa", "aU(b&!a)", "0Ra", "F0>a", "Xa&!a",
             "Ga&GX!a>b", "!(GFa>FGa)", "!aUa", "aRa"}) {
-            due(line, deskOf(line).can(), true);
+            Due.due(line, Due.deskOf(line).can(), true);
         }
         for (String line : new String[] {"0", "a&!a", "F0", "!G1", "GFa&FG!a", "FaRb&G!b", "Ga&F!a", "Xa&X!a", "aU0", "!(aR1)",
             "G(a>Xa)&a&F!a", "!(Ga>Fa)", "!(FFa>Fa)", "aUb&G!b", "G(a&X!a)", "!(aUb>Fb)", "G(a>X!a)&FGa"}) {
-            due(line, deskOf(line).can(), false);
+            Due.due(line, Due.deskOf(line).can(), false);
         }
     }
 
     // ---- 11, 12, 13
 
     private static void stemLoopStep() {
-        promise = 13;
+        Due.sentence("promise 13");
         walk("a", 1, 1, 0);
         walk("!a", 0, 0);
         walk("XXa", 3, 8, 16, 1, 0);
@@ -397,55 +393,55 @@ public final class PromisesTest {
 
     /** How many states of a walk are its stem (-1 when there is no walk), and all its states. */
     private static void walk(String line, int stem, int... steps) {
-        LassoDesk desk = deskOf(line);
-        promise = 11;
-        due(line + " stem", desk.stem(), stem < 0 ? LassoDesk.NONE : stem);
-        promise = 12;
-        due(line + " loop", desk.loop(), stem < 0 ? LassoDesk.NONE : steps.length - stem);
-        promise = 13;
+        LassoDesk desk = Due.deskOf(line);
+        Due.sentence("promise 11");
+        Due.due(line + " stem", desk.stem(), stem < 0 ? LassoDesk.NONE : stem);
+        Due.sentence("promise 12");
+        Due.due(line + " loop", desk.loop(), stem < 0 ? LassoDesk.NONE : steps.length - stem);
+        Due.sentence("promise 13");
         for (int k = 0; k < steps.length; k++) {
-            due(line + " step " + k, desk.step(k), steps[k]);
+            Due.due(line + " step " + k, desk.step(k), steps[k]);
         }
         if (stem < 0) {
-            noFormula(line + " step(0)", () -> desk.step(0));
-            noFormula(line + " step(-1)", () -> desk.step(-1));
+            Due.noState(line + " step(0)", () -> desk.step(0));
+            Due.noState(line + " step(-1)", () -> desk.step(-1));
         } else {
-            outside(line + " step behind the loop", () -> desk.step(steps.length));
+            Due.outside(line + " step behind the loop", () -> desk.step(steps.length));
         }
     }
 
     private static void stepWrong() {
-        LassoDesk desk = deskOf("XXa");
-        outside("step(-1)", () -> desk.step(-1));
-        outside("step(4)", () -> desk.step(4));
-        outside("step(MAX_VALUE)", () -> desk.step(Integer.MAX_VALUE));
-        outside("step(MIN_VALUE)", () -> desk.step(Integer.MIN_VALUE));
+        LassoDesk desk = Due.deskOf("XXa");
+        Due.outside("step(-1)", () -> desk.step(-1));
+        Due.outside("step(4)", () -> desk.step(4));
+        Due.outside("step(MAX_VALUE)", () -> desk.step(Integer.MAX_VALUE));
+        Due.outside("step(MIN_VALUE)", () -> desk.step(Integer.MIN_VALUE));
     }
 
     // ---- 14
 
     private static void shape() {
-        promise = 14;
+        Due.sentence("promise 14");
         LassoDesk desk = new LassoDesk();
         desk.set(0, 6);
         desk.shape(8, 8);
-        due("what it had stays", desk.letter(0), 6);
+        Due.due("what it had stays", desk.letter(0), 6);
         for (int k = 1; k < 16; k++) {
-            due("others are 0", desk.letter(k), 0);
+            Due.due("others are 0", desk.letter(k), 0);
             desk.set(k, k);
         }
         desk.shape(2, 3);
-        wordIs(desk, 6, 1, 2, 3, 4, 2, 3, 4, 2);
+        lettersAre(desk, 6, 1, 2, 3, 4, 2, 3, 4, 2);
         desk.shape(4, 1);
-        wordIs(desk, 6, 1, 2, 3, 4, 4, 4);
+        lettersAre(desk, 6, 1, 2, 3, 4, 4, 4);
         desk.shape(0, 5);
-        wordIs(desk, 6, 1, 2, 3, 4, 6, 1);
+        lettersAre(desk, 6, 1, 2, 3, 4, 6, 1);
         desk.shape(8, 8);
-        wordIs(desk, 6, 1, 2, 3, 4, 0, 0, 0, 0, 0, 0, 0, 0, 0, 0, 0, 0);
+        lettersAre(desk, 6, 1, 2, 3, 4, 0, 0, 0, 0, 0, 0, 0, 0, 0, 0, 0, 0);
         desk.shape(0, 1);
-        wordIs(desk, 6, 6, 6);
+        lettersAre(desk, 6, 6, 6);
         desk.shape(0, 8);
-        wordIs(desk, 6, 0, 0, 0, 0, 0, 0, 0, 6);
+        lettersAre(desk, 6, 0, 0, 0, 0, 0, 0, 0, 6);
     }
 
     private static void shapeWrong() {
@@ -456,55 +452,55 @@ public final class PromisesTest {
         desk.set(2, 3);
         int[][] shapes = {{-1, 1}, {9, 1}, {0, 0}, {0, -1}, {0, 9}, {9, 9}, {Integer.MIN_VALUE, 1}, {1, Integer.MAX_VALUE}};
         for (int[] shape : shapes) {
-            illegal("shape(" + shape[0] + ", " + shape[1] + ")", () -> desk.shape(shape[0], shape[1]));
+            Due.illegal("shape(" + shape[0] + ", " + shape[1] + ")", () -> desk.shape(shape[0], shape[1]));
         }
-        wordIs(desk, 1, 2, 3, 2, 3);
+        lettersAre(desk, 1, 2, 3, 2, 3);
     }
 
-    private static void wordIs(LassoDesk desk, int... letters) {
+    private static void lettersAre(LassoDesk desk, int... letters) {
         for (int k = 0; k < letters.length; k++) {
-            due("letter " + k, desk.letter(k), letters[k]);
+            Due.due("letter " + k, desk.letter(k), letters[k]);
         }
     }
 
     // ---- 15
 
     private static void set() {
-        promise = 15;
+        Due.sentence("promise 15");
         LassoDesk desk = new LassoDesk();
         desk.shape(1, 2);
-        due("set(0, 5)", desk.set(0, 5), 0);
-        due("set(0, 3) answers what it was", desk.set(0, 3), 5);
-        due("set(2, 15): the lowest three bits", desk.set(2, 15), 0);
-        due("set(2, -1)", desk.set(2, -1), 7);
-        due("set(2, 8)", desk.set(2, 8), 7);
-        due("set(2, MIN_VALUE + 2)", desk.set(2, Integer.MIN_VALUE + 2), 0);
-        due("set(1, -2)", desk.set(1, -2), 0);
-        wordIs(desk, 3, 6, 2, 6, 2);
-        outside("set(-1, 0)", () -> desk.set(-1, 0));
-        outside("set(3, 0)", () -> desk.set(3, 0));
-        outside("set(16, 0)", () -> desk.set(16, 0));
-        outside("set(MAX_VALUE, 0)", () -> desk.set(Integer.MAX_VALUE, 0));
-        outside("set(MIN_VALUE, 0)", () -> desk.set(Integer.MIN_VALUE, 0));
-        wordIs(desk, 3, 6, 2, 6, 2);
+        Due.due("set(0, 5)", desk.set(0, 5), 0);
+        Due.due("set(0, 3) answers what it was", desk.set(0, 3), 5);
+        Due.due("set(2, 15): the lowest three bits", desk.set(2, 15), 0);
+        Due.due("set(2, -1)", desk.set(2, -1), 7);
+        Due.due("set(2, 8)", desk.set(2, 8), 7);
+        Due.due("set(2, MIN_VALUE + 2)", desk.set(2, Integer.MIN_VALUE + 2), 0);
+        Due.due("set(1, -2)", desk.set(1, -2), 0);
+        lettersAre(desk, 3, 6, 2, 6, 2);
+        Due.outside("set(-1, 0)", () -> desk.set(-1, 0));
+        Due.outside("set(3, 0)", () -> desk.set(3, 0));
+        Due.outside("set(16, 0)", () -> desk.set(16, 0));
+        Due.outside("set(MAX_VALUE, 0)", () -> desk.set(Integer.MAX_VALUE, 0));
+        Due.outside("set(MIN_VALUE, 0)", () -> desk.set(Integer.MIN_VALUE, 0));
+        lettersAre(desk, 3, 6, 2, 6, 2);
         desk.shape(8, 8);
-        due("set(15, 1)", desk.set(15, 1), 0);
+        Due.due("set(15, 1)", desk.set(15, 1), 0);
     }
 
     // ---- 16
 
     private static void adopt() {
-        promise = 16;
-        LassoDesk desk = deskOf("XXa");
+        Due.sentence("promise 16");
+        LassoDesk desk = Due.deskOf("XXa");
         desk.shape(8, 8);
         desk.set(15, 7);
-        due("adopt()", desk.adopt(), true);
-        wordIs(desk, 0, 0, 1, 0, 0, 0);
-        outside("the word has the walk's shape", () -> desk.set(4, 7));
-        due("the loop's letter", desk.set(3, 2), 0);
-        wordIs(desk, 0, 0, 1, 2, 2, 2);
+        Due.due("adopt()", desk.adopt(), true);
+        lettersAre(desk, 0, 0, 1, 0, 0, 0);
+        Due.outside("the word has the walk's shape", () -> desk.set(4, 7));
+        Due.due("the loop's letter", desk.set(3, 2), 0);
+        lettersAre(desk, 0, 0, 1, 2, 2, 2);
         desk.shape(8, 8);
-        due("letters behind the walk's are gone", desk.letter(15), 0);
+        Due.due("letters behind the walk's are gone", desk.letter(15), 0);
         adoptRefused("a&!a", -1, -1);
         adoptRefused("X((aU(Gc))RXc)", 9, 1);
         adoptRefused("X(X(Xc&aU(cUb))>b)", 3, 9);
@@ -513,50 +509,50 @@ public final class PromisesTest {
     }
 
     private static void adoptRefused(String line, int stem, int loop) {
-        LassoDesk desk = deskOf(line);
-        due(line + " stem", desk.stem(), stem);
-        due(line + " loop", desk.loop(), loop);
+        LassoDesk desk = Due.deskOf(line);
+        Due.due(line + " stem", desk.stem(), stem);
+        Due.due(line + " loop", desk.loop(), loop);
         desk.shape(1, 2);
         desk.set(0, 3);
         desk.set(2, 5);
-        due("adopt() of " + line, desk.adopt(), false);
-        wordIs(desk, 3, 0, 5, 0, 5);
+        Due.due("adopt() of " + line, desk.adopt(), false);
+        lettersAre(desk, 3, 0, 5, 0, 5);
     }
 
     private static void adoptTaken(String line, int stem, int loop) {
-        LassoDesk desk = deskOf(line);
-        due(line + " stem", desk.stem(), stem);
-        due(line + " loop", desk.loop(), loop);
-        due("adopt() of " + line, desk.adopt(), true);
+        LassoDesk desk = Due.deskOf(line);
+        Due.due(line + " stem", desk.stem(), stem);
+        Due.due(line + " loop", desk.loop(), loop);
+        Due.due("adopt() of " + line, desk.adopt(), true);
         for (int k = 0; k < 3 * (stem + loop); k++) {
             int place = k < stem ? k : stem + (k - stem) % loop;
-            due(line + " letter " + k, desk.letter(k), desk.step(place) & 7);
+            Due.due(line + " letter " + k, desk.letter(k), desk.step(place) & 7);
         }
-        due(line + " is so", desk.holds(0), true);
+        Due.due(line + " is so", desk.holds(0), true);
     }
 
     // ---- 17
 
     private static void letter() {
-        promise = 17;
+        Due.sentence("promise 17");
         LassoDesk desk = new LassoDesk();
         desk.shape(3, 7);
         for (int k = 0; k < 10; k++) {
             desk.set(k, k % 8);
         }
         for (int k = 0; k < 100; k++) {
-            due("letter " + k, desk.letter(k), (k < 3 ? k : 3 + (k - 3) % 7) % 8);
+            Due.due("letter " + k, desk.letter(k), (k < 3 ? k : 3 + (k - 3) % 7) % 8);
         }
-        due("letter MAX_VALUE", desk.letter(Integer.MAX_VALUE), 8 % 8);
-        due("letter MAX_VALUE - 1", desk.letter(Integer.MAX_VALUE - 1), 7);
-        outside("letter(-1)", () -> desk.letter(-1));
-        outside("letter(MIN_VALUE)", () -> desk.letter(Integer.MIN_VALUE));
+        Due.due("letter MAX_VALUE", desk.letter(Integer.MAX_VALUE), 8 % 8);
+        Due.due("letter MAX_VALUE - 1", desk.letter(Integer.MAX_VALUE - 1), 7);
+        Due.outside("letter(-1)", () -> desk.letter(-1));
+        Due.outside("letter(MIN_VALUE)", () -> desk.letter(Integer.MIN_VALUE));
     }
 
     // ---- 18: the word is 1 2 0 | 5 2 | 5 2 | ...
 
     private static void holdsOrdinary() {
-        promise = 18;
+        Due.sentence("promise 18");
         places("0", false, false, false, false, false);
         places("1", true, true, true, true, true);
         places("a", true, false, false, true, false);
@@ -593,103 +589,29 @@ public final class PromisesTest {
     }
 
     private static void places(String line, boolean... so) {
-        LassoDesk desk = deskOf(line);
+        LassoDesk desk = Due.deskOf(line);
         int[] letters = {1, 2, 0, 5, 2};
         desk.shape(3, 2);
         for (int k = 0; k < letters.length; k++) {
             desk.set(k, letters[k]);
         }
         for (int k = 0; k < 40; k++) {
-            due(line + " at place " + k, desk.holds(k), so[k < 3 ? k : 3 + (k - 3) % 2]);
+            Due.due(line + " at place " + k, desk.holds(k), so[k < 3 ? k : 3 + (k - 3) % 2]);
         }
-        due(line + " at place MAX_VALUE", desk.holds(Integer.MAX_VALUE), so[3]);
+        Due.due(line + " at place MAX_VALUE", desk.holds(Integer.MAX_VALUE), so[3]);
     }
 
     private static void holdsWrong() {
-        LassoDesk desk = deskOf("a");
-        outside("holds(-1)", () -> desk.holds(-1));
-        outside("holds(MIN_VALUE)", () -> desk.holds(Integer.MIN_VALUE));
-        due("on a new object's word", desk.holds(3), false);
+        LassoDesk desk = Due.deskOf("a");
+        Due.outside("holds(-1)", () -> desk.holds(-1));
+        Due.outside("holds(MIN_VALUE)", () -> desk.holds(Integer.MIN_VALUE));
+        Due.due("on a new object's word", desk.holds(3), false);
         desk.set(0, 1);
-        due("when its letter was set", desk.holds(3), true);
+        Due.due("when its letter was set", desk.holds(3), true);
         desk.shape(0, 2);
-        due("when it was shaped", desk.holds(3), false);
-        typeAll(desk, "Fa");
+        Due.due("when it was shaped", desk.holds(3), false);
+        Due.typeAll(desk, "Fa");
         desk.formula();
-        due("of another formula on the same word", desk.holds(3), true);
-    }
-
-    // ---- helpers
-
-    private interface Call {
-        Object answer();
-    }
-
-    private interface Act {
-        void act();
-    }
-
-    private static LassoDesk deskOf(String line) {
-        LassoDesk desk = new LassoDesk();
-        typeAll(desk, line);
-        desk.formula();
-        return desk;
-    }
-
-    private static void typeAll(LassoDesk desk, String line) {
-        for (int i = 0; i < line.length(); i++) {
-            desk.type(line.charAt(i));
-        }
-    }
-
-    private static void parts(String line, int count) {
-        LassoDesk desk = new LassoDesk();
-        typeAll(desk, line);
-        if (count < 0) {
-            illegal("formula() of " + line, desk::formula);
-        } else {
-            due("formula() of " + line, desk.formula(), count);
-        }
-    }
-
-    private static int codes(int first, int second, int third, int fourth) {
-        return first | second << 8 | third << 16 | fourth << 24;
-    }
-
-    private static boolean bit(int bits, int i) {
-        return (bits >> i & 1) == 1;
-    }
-
-    private static void noFormula(String what, Call call) {
-        thrown(what, IllegalStateException.class, call::answer);
-    }
-
-    private static void illegal(String what, Act act) {
-        thrown(what, IllegalArgumentException.class, act);
-    }
-
-    private static void outside(String what, Act act) {
-        thrown(what, IndexOutOfBoundsException.class, act);
-    }
-
-    private static void thrown(String what, Class<?> due, Act act) {
-        String got = "nothing";
-        try {
-            act.act();
-        } catch (RuntimeException e) {
-            if (e.getClass() == due) {
-                return;
-            }
-            got = e.toString();
-        }
-        wrong++;
-        System.out.println("promise " + promise + ": " + what + " threw " + got + ", due is " + due.getSimpleName());
-    }
-
-    private static void due(String what, Object got, Object want) {
-        if (!got.equals(want)) {
-            wrong++;
-            System.out.println("promise " + promise + ": " + what + " answered " + got + ", due is " + want);
-        }
+        Due.due("of another formula on the same word", desk.holds(3), true);
     }
 }
