@@ -1,19 +1,29 @@
 /** What the tests share: desks with a formula or a word, and answers compared with those that are due. */
 final class Due {
+    /** Of one sentence only the first wrong answers are printed, so that the others are seen too. */
+    private static final int PRINTED = 5;
+
     private static int wrong = 0;
+    private static int wrongOfSentence = 0;
     private static String sentence = "";
 
     private Due() {
     }
 
-    /** A call of which only the exception counts. */
+    /** A call of which only the exception counts, or a whole test. */
     interface Act {
         void act();
     }
 
-    /** The document's words that the next answers belong to; they are printed with a wrong answer. */
-    static void sentence(String words) {
+    /** Runs the test of the document's words, which are printed with a wrong answer. */
+    static void test(String words, Act test) {
         sentence = words;
+        wrongOfSentence = 0;
+        try {
+            test.act();
+        } catch (RuntimeException | StackOverflowError e) {
+            tellWrong("a call threw " + e + " at " + e.getStackTrace()[0]);
+        }
     }
 
     static void due(String what, Object got, Object want) {
@@ -38,7 +48,7 @@ final class Due {
         String got = "nothing";
         try {
             act.act();
-        } catch (RuntimeException e) {
+        } catch (RuntimeException | StackOverflowError e) {
             if (e.getClass() == due) {
                 return;
             }
@@ -49,7 +59,8 @@ final class Due {
 
     private static void tellWrong(String what) {
         wrong++;
-        if (wrong <= 100) {
+        wrongOfSentence++;
+        if (wrongOfSentence <= PRINTED) {
             System.out.println(sentence + ": " + what);
         }
     }

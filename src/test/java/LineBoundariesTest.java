@@ -6,43 +6,42 @@ public final class LineBoundariesTest {
     private static final String ALL_18 = "a|a|a|a|a|a|a|a|!a";
 
     public static void main(String[] args) {
-        usedFor512Calls();
-        lineOf18();
-        noBlanks();
-        chain();
-        either();
-        both();
-        longs();
-        simpleOfOneCharacter();
-        bracketsRoundAChain();
-        fourBracketsDeep();
-        signAndSimple();
-        partsCounted();
-        fiveTemporals();
-        temporalsNumbered();
-        newHasNoFormula();
-        newLineIsEmpty();
-        newWord();
-        lowestByteFirst();
-        upToTheFirstZero();
-        putAtTheEnd();
-        falseBeyond18();
-        falseChangesNothing();
-        wrongCharacter();
-        wrongCharacterBeforeTooMany();
-        wrongCharacterChangesNothing();
-        lineIsEmptyThen();
-        lineIsEmptyBehindAnException();
-        lineThatIsNone();
-        sixTemporals();
-        formulaStays();
+        Due.test("An object is used for at most 512 calls", LineBoundariesTest::usedFor512Calls);
+        Due.test("a LINE that is typed, of at most 18 characters", LineBoundariesTest::lineOf18);
+        Due.test("A line is a FORMULA (no blanks)", LineBoundariesTest::noBlanks);
+        Due.test("a CHAIN: an EITHER, or an EITHER, > and a CHAIN", LineBoundariesTest::chain);
+        Due.test("An either is one or more BOTHS with | between", LineBoundariesTest::either);
+        Due.test("a both is one or more LONGS with & between", LineBoundariesTest::both);
+        Due.test("a long is a SIMPLE, or a simple, U or R, and a long", LineBoundariesTest::longs);
+        Due.test("a simple is 0, 1, a, b, c", LineBoundariesTest::simpleOfOneCharacter);
+        Due.test("a chain in round brackets", LineBoundariesTest::bracketsRoundAChain);
+        Due.test("round brackets (at most four deep)", LineBoundariesTest::fourBracketsDeep);
+        Due.test("or !, X, F or G and a simple", LineBoundariesTest::signAndSimple);
+        Due.test("Each sign (but brackets) and each 0, 1, a, b, c is a PART", LineBoundariesTest::partsCounted);
+        Due.test("X, F, G, U and R are TEMPORAL ones: at most 5 in a line", LineBoundariesTest::fiveTemporals);
+        Due.test("numbered from 0 as they stand in it", LineBoundariesTest::temporalsNumbered);
+        Due.test("A new object: There is no formula", LineBoundariesTest::newHasNoFormula);
+        Due.test("A new object: the line is empty", LineBoundariesTest::newLineIsEmpty);
+        Due.test("the given word has no stem and a loop of one letter 0", LineBoundariesTest::newWord);
+        Due.test("the bytes of four, the lowest first", LineBoundariesTest::lowestByteFirst);
+        Due.test("up to the first that is 0", LineBoundariesTest::upToTheFirstZero);
+        Due.test("are put at the end of the line: true", LineBoundariesTest::putAtTheEnd);
+        Due.test("False when it would have more than 18", LineBoundariesTest::falseBeyond18);
+        Due.test("False, changing nothing", LineBoundariesTest::falseChangesNothing);
+        Due.test("IllegalArgumentException when one of them is not 33 .. 126", LineBoundariesTest::wrongCharacter);
+        Due.test("IllegalArgumentException, before that", LineBoundariesTest::wrongCharacterBeforeTooMany);
+        Due.test("type: an exception changes nothing", LineBoundariesTest::wrongCharacterChangesNothing);
+        Due.test("formula: The line is empty then", LineBoundariesTest::lineIsEmptyThen);
+        Due.test("The line is empty then, also when an exception comes", LineBoundariesTest::lineIsEmptyBehindAnException);
+        Due.test("IllegalArgumentException when it is none", LineBoundariesTest::lineThatIsNone);
+        Due.test("IllegalArgumentException when it has more than 5 temporal parts", LineBoundariesTest::sixTemporals);
+        Due.test("the formula stays", LineBoundariesTest::formulaStays);
         Due.end();
     }
 
     // ---- What it is
 
     private static void usedFor512Calls() {
-        Due.sentence("An object is used for at most 512 calls");
         LassoDesk desk = new LassoDesk();
         for (int call = 1; call <= 506; call += 11) {
             Due.due("type", desk.type(Due.pack("XXXX")), true);
@@ -68,7 +67,6 @@ public final class LineBoundariesTest {
     // ---- Terms
 
     private static void lineOf18() {
-        Due.sentence("a LINE that is typed, of at most 18 characters");
         Due.formulaIs(ALL_18, 18);
         Due.formulaIs("!!!!!!!!!!!!!!!!!a", 18);
         Due.formulaIs("!!!!!!!!!!!!!!!!a", 17);
@@ -79,7 +77,6 @@ public final class LineBoundariesTest {
     }
 
     private static void noBlanks() {
-        Due.sentence("A line is a FORMULA (no blanks)");
         LassoDesk desk = new LassoDesk();
         Due.illegal("a blank", () -> desk.type(Due.pack(" ")));
         Due.illegal("a and a blank", () -> desk.type(Due.pack("a ")));
@@ -89,7 +86,6 @@ public final class LineBoundariesTest {
     }
 
     private static void chain() {
-        Due.sentence("a CHAIN: an EITHER, or an EITHER, > and a CHAIN");
         Due.formulaIs("a|b", 3);
         Due.formulaIs("a>b", 3);
         Due.formulaIs("a|b>b|c>c&a", 11);
@@ -100,7 +96,6 @@ public final class LineBoundariesTest {
     }
 
     private static void either() {
-        Due.sentence("An either is one or more BOTHS with | between");
         Due.formulaIs("b&c", 3);
         Due.formulaIs("a|b", 3);
         Due.formulaIs("a|b&c|c", 7);
@@ -111,7 +106,6 @@ public final class LineBoundariesTest {
     }
 
     private static void both() {
-        Due.sentence("a both is one or more LONGS with & between");
         Due.formulaIs("aUb", 3);
         Due.formulaIs("a&b", 3);
         Due.formulaIs("a&bUc&c", 7);
@@ -124,7 +118,6 @@ public final class LineBoundariesTest {
     }
 
     private static void longs() {
-        Due.sentence("a long is a SIMPLE, or a simple, U or R, and a long");
         Due.formulaIs("!a", 2);
         Due.formulaIs("aUb", 3);
         Due.formulaIs("aRb", 3);
@@ -139,7 +132,6 @@ public final class LineBoundariesTest {
     }
 
     private static void simpleOfOneCharacter() {
-        Due.sentence("a simple is 0, 1, a, b, c");
         for (int code = 33; code <= 126; code++) {
             String line = "" + (char) code;
             if ("01abc".indexOf(code) >= 0) {
@@ -154,7 +146,6 @@ public final class LineBoundariesTest {
     }
 
     private static void bracketsRoundAChain() {
-        Due.sentence("a chain in round brackets");
         Due.formulaIs("(a>b)", 3);
         Due.formulaIs("(a)|(b)|(c)|(a)|b", 9);
         noFormulas("(", ")", "()", "(a", "a)", "((a)", "(a))", ")a(", ")(", "(a&)", "(&a)", "!()", "a()", "a&()", "()a", "a(b)",
@@ -162,7 +153,6 @@ public final class LineBoundariesTest {
     }
 
     private static void fourBracketsDeep() {
-        Due.sentence("round brackets (at most four deep)");
         Due.formulaIs("(((a)))", 1);
         Due.formulaIs("((((a))))", 1);
         Due.formulaIs("((((a>b|c&aUb))))", 9);
@@ -172,11 +162,10 @@ public final class LineBoundariesTest {
         Due.formulaIs("(a|(b|(c|(a))))", 7);
         Due.formulaIs("((((a)|(b))))", 3);
         noFormulas("(((((a)))))", "((((((a))))))", "((((((((a))))))))", "!(X(F(G((a)))))", "!(!(!(!(!(a)))))", "a&(((((b)))))", "(((((a)))))&b",
-            "(a|(b|(c|((a)))))", "((a)|((((b)))))", "(((((a)|b))))");
+            "(a|(b|(c|((a)))))", "((a)|((((b)))))", "(((((a)|b))))", "((((())))", "((((()))))", "(((((");
     }
 
     private static void signAndSimple() {
-        Due.sentence("or !, X, F or G and a simple");
         for (String sign : new String[] {"!", "X", "F", "G"}) {
             Due.formulaIs(sign + "a", 2);
             Due.formulaIs(sign + "(a)", 2);
@@ -193,7 +182,6 @@ public final class LineBoundariesTest {
     }
 
     private static void partsCounted() {
-        Due.sentence("Each sign (but brackets) and each 0, 1, a, b, c is a PART");
         Due.formulaIs("c", 1);
         Due.formulaIs("((((c))))", 1);
         Due.formulaIs("c&c", 3);
@@ -205,7 +193,6 @@ public final class LineBoundariesTest {
     }
 
     private static void fiveTemporals() {
-        Due.sentence("X, F, G, U and R are TEMPORAL ones: at most 5 in a line");
         for (String sign : new String[] {"X", "F", "G"}) {
             Due.formulaIs(sign.repeat(5) + "a", 6);
             noFormulas(sign.repeat(6) + "a", sign.repeat(17) + "a");
@@ -220,7 +207,6 @@ public final class LineBoundariesTest {
     }
 
     private static void temporalsNumbered() {
-        Due.sentence("numbered from 0 as they stand in it");
         String five = "XaUFbRGc";
         LassoDesk desk = Due.deskOf(five);
         for (int s = 0; s < 256; s++) {
@@ -246,7 +232,6 @@ public final class LineBoundariesTest {
     // ---- Promise 1
 
     private static void newHasNoFormula() {
-        Due.sentence("A new object: There is no formula");
         Due.noFormulaYet(new LassoDesk());
         LassoDesk desk = new LassoDesk();
         desk.type('a');
@@ -256,7 +241,6 @@ public final class LineBoundariesTest {
     }
 
     private static void newLineIsEmpty() {
-        Due.sentence("A new object: the line is empty");
         Due.illegal("formula()", () -> new LassoDesk().formula());
         Due.lineIsEmpty(new LassoDesk());
         new LassoDesk().type('!');
@@ -264,7 +248,6 @@ public final class LineBoundariesTest {
     }
 
     private static void newWord() {
-        Due.sentence("the given word has no stem and a loop of one letter 0");
         Due.wordIs(new LassoDesk(), 0, 0);
         LassoDesk desk = new LassoDesk();
         Due.due("letter(MAX_VALUE)", desk.letter(Integer.MAX_VALUE), 0);
@@ -277,7 +260,6 @@ public final class LineBoundariesTest {
     // ---- Promise 2
 
     private static void lowestByteFirst() {
-        Due.sentence("the bytes of four, the lowest first");
         LassoDesk desk = new LassoDesk();
         Due.due("type(0x00623E61)", desk.type(0x00623E61), true);
         Due.due("formula()", desk.formula(), 3);
@@ -290,7 +272,6 @@ public final class LineBoundariesTest {
     }
 
     private static void upToTheFirstZero() {
-        Due.sentence("up to the first that is 0");
         int[] wrong = {1, 32, 127, 128, 255, 'b'};
         for (int code : wrong) {
             typedParts(0, Due.codes('a', 0, code, code), 1);
@@ -316,7 +297,6 @@ public final class LineBoundariesTest {
     }
 
     private static void putAtTheEnd() {
-        Due.sentence("are put at the end of the line: true");
         String line = "Fa>GbU!c|X1&(bRa)";
         boolean[] so = new boolean[256];
         LassoDesk byFour = Due.deskOf(line);
@@ -336,7 +316,6 @@ public final class LineBoundariesTest {
     }
 
     private static void falseBeyond18() {
-        Due.sentence("False when it would have more than 18");
         for (int had = 0; had <= 18; had++) {
             for (int more = 0; more <= 4; more++) {
                 LassoDesk desk = new LassoDesk();
@@ -347,7 +326,6 @@ public final class LineBoundariesTest {
     }
 
     private static void falseChangesNothing() {
-        Due.sentence("False, changing nothing");
         LassoDesk desk = Due.deskOf("Fb");
         Due.typeAll(desk, "a&a&a&a&a&a&a&a&");
         Due.due("16 and 3", desk.type(Due.pack("b|c")), false);
@@ -362,7 +340,6 @@ public final class LineBoundariesTest {
     }
 
     private static void wrongCharacter() {
-        Due.sentence("IllegalArgumentException when one of them is not 33 .. 126");
         for (int code = 1; code <= 255; code++) {
             int[] fours = {Due.codes(code, 0, 0, 0), Due.codes(code, 'a', 'a', 'a'), Due.codes('a', code, 'a', 0), Due.codes('a', 'a', code, 0),
                 Due.codes('a', 'a', 'a', code)};
@@ -381,7 +358,6 @@ public final class LineBoundariesTest {
     }
 
     private static void wrongCharacterBeforeTooMany() {
-        Due.sentence("IllegalArgumentException, before that");
         LassoDesk desk = new LassoDesk();
         Due.typeAll(desk, "!!!!!!!!!!!!!!!!!");
         for (int code : new int[] {1, 32, 127, 255}) {
@@ -395,7 +371,6 @@ public final class LineBoundariesTest {
     }
 
     private static void wrongCharacterChangesNothing() {
-        Due.sentence("type: an exception changes nothing");
         LassoDesk desk = Due.deskOf("Fb");
         Due.typeAll(desk, "a&");
         Due.illegal("b and a blank", () -> desk.type(Due.pack("b ")));
@@ -410,7 +385,6 @@ public final class LineBoundariesTest {
     // ---- Promise 3
 
     private static void lineIsEmptyThen() {
-        Due.sentence("formula: The line is empty then");
         LassoDesk desk = Due.deskOf("a&b");
         Due.illegal("formula() again", desk::formula);
         Due.lineIsEmpty(Due.deskOf("a&b"));
@@ -422,7 +396,6 @@ public final class LineBoundariesTest {
     }
 
     private static void lineIsEmptyBehindAnException() {
-        Due.sentence("The line is empty then, also when an exception comes");
         for (String line : new String[] {"", "aa", "!", "a&", "(a", "XXXXXXa", "XXXXXX", "(((((a)))))", "!!!!!!!!!!!!!!!!!!", "aUaUaUaUaUaUaUaUa"}) {
             LassoDesk desk = Due.deskOf("Fb");
             Due.typeAll(desk, line);
@@ -432,7 +405,6 @@ public final class LineBoundariesTest {
     }
 
     private static void lineThatIsNone() {
-        Due.sentence("IllegalArgumentException when it is none");
         noFormulas("", "ab", "a&", "d", "A", "x", "f", "u", "2", "~", "a1", "~a", "a=b", "a<b", "a->b", "[a]", "{a}");
         LassoDesk desk = new LassoDesk();
         Due.illegal("formula() of an empty line", desk::formula);
@@ -442,7 +414,6 @@ public final class LineBoundariesTest {
     }
 
     private static void sixTemporals() {
-        Due.sentence("IllegalArgumentException when it has more than 5 temporal parts");
         LassoDesk desk = new LassoDesk();
         Due.typeAll(desk, "XXXXXXa");
         Due.illegal("formula() of six", desk::formula);
@@ -456,7 +427,6 @@ public final class LineBoundariesTest {
     }
 
     private static void formulaStays() {
-        Due.sentence("the formula stays");
         for (String line : new String[] {"XXXXXXa", "GFGFGFb", "aUbUcUaUbUcUa", "", "a&b)", "Gb&Gc&", "b|(F", "(((((a)))))", "0&&1"}) {
             for (String stays : new String[] {"a", "F0", "GFa&GFb", "XXXXXa"}) {
                 LassoDesk desk = Due.deskOf(stays);

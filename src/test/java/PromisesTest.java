@@ -3,42 +3,41 @@ import java.util.function.IntPredicate;
 /** Promises 1 to 18, one after the other: ordinary inputs, the edges that the document names, wrong inputs. */
 public final class PromisesTest {
     public static void main(String[] args) {
-        newObject();
-        type();
-        typeLimit();
-        typeWrongCharacters();
-        formulaCountsParts();
-        formulaRefuses();
-        formulaStays();
-        states();
-        isAtOrdinary();
-        isAtTemporal();
-        isAtPrecedence();
-        isAtWrong();
-        leads();
-        lasts();
-        lasting();
-        promises();
-        can();
-        stemLoopStep();
-        stepWrong();
-        shape();
-        shapeWrong();
-        set();
-        adopt();
-        letter();
-        holdsOrdinary();
-        holdsTemporal();
-        holdsWrong();
+        Due.test("promise 1", PromisesTest::newObject);
+        Due.test("promise 2", PromisesTest::type);
+        Due.test("promise 2", PromisesTest::typeLimit);
+        Due.test("promise 2", PromisesTest::typeWrongCharacters);
+        Due.test("promise 3", PromisesTest::formulaCountsParts);
+        Due.test("promise 3", PromisesTest::formulaRefuses);
+        Due.test("promise 3", PromisesTest::formulaStays);
+        Due.test("promise 4", PromisesTest::states);
+        Due.test("promise 5", PromisesTest::isAtOrdinary);
+        Due.test("promise 5", PromisesTest::isAtTemporal);
+        Due.test("promise 5", PromisesTest::isAtPrecedence);
+        Due.test("promise 5", PromisesTest::isAtWrong);
+        Due.test("promise 6", PromisesTest::leads);
+        Due.test("promise 7", PromisesTest::lasts);
+        Due.test("promise 8", PromisesTest::lasting);
+        Due.test("promise 9", PromisesTest::promises);
+        Due.test("promise 10", PromisesTest::can);
+        Due.test("promises 11, 12 and 13", PromisesTest::stemLoopStep);
+        Due.test("promise 13", PromisesTest::stepWrong);
+        Due.test("promise 14", PromisesTest::shape);
+        Due.test("promise 14", PromisesTest::shapeWrong);
+        Due.test("promise 15", PromisesTest::set);
+        Due.test("promise 16", PromisesTest::adopt);
+        Due.test("promise 17", PromisesTest::letter);
+        Due.test("promise 18", PromisesTest::holdsOrdinary);
+        Due.test("promise 18", PromisesTest::holdsTemporal);
+        Due.test("promise 18", PromisesTest::holdsWrong);
         Due.end();
     }
 
     // ---- 1
 
     private static void newObject() {
-        Due.sentence("promise 1");
         LassoDesk desk = new LassoDesk();
-        throwsNoFormula(desk);
+        Due.noFormulaYet(desk);
         Due.due("letter(0)", desk.letter(0), 0);
         Due.due("letter(1000)", desk.letter(1000), 0);
         Due.outside("set(1, 7): one letter only", () -> desk.set(1, 7));
@@ -49,31 +48,9 @@ public final class PromisesTest {
         Due.due("letter(0) of another object", other.letter(0), 0);
     }
 
-    private static void throwsNoFormula(LassoDesk desk) {
-        Due.noState("states()", desk::states);
-        Due.noState("isAt(0)", () -> desk.isAt(0));
-        Due.noState("isAt(-1)", () -> desk.isAt(-1));
-        Due.noState("leads(0, 0)", () -> desk.leads(0, 0));
-        Due.noState("leads(-1, 0)", () -> desk.leads(-1, 0));
-        Due.noState("leads(0, 999)", () -> desk.leads(0, 999));
-        Due.noState("lasts(0)", () -> desk.lasts(0));
-        Due.noState("lasts(-1)", () -> desk.lasts(-1));
-        Due.noState("lasting()", desk::lasting);
-        Due.noState("promises()", desk::promises);
-        Due.noState("can()", desk::can);
-        Due.noState("stem()", desk::stem);
-        Due.noState("loop()", desk::loop);
-        Due.noState("step(0)", () -> desk.step(0));
-        Due.noState("step(-1)", () -> desk.step(-1));
-        Due.noState("adopt()", desk::adopt);
-        Due.noState("holds(0)", () -> desk.holds(0));
-        Due.noState("holds(-1)", () -> desk.holds(-1));
-    }
-
     // ---- 2
 
     private static void type() {
-        Due.sentence("promise 2");
         LassoDesk desk = new LassoDesk();
         Due.due("type(F)", desk.type(Due.codes('F', 0, 0, 0)), true);
         Due.due("type(a|b)", desk.type(Due.codes('a', '|', 'b', 0)), true);
@@ -129,7 +106,6 @@ public final class PromisesTest {
     // ---- 3
 
     private static void formulaCountsParts() {
-        Due.sentence("promise 3");
         Due.formulaIs("0", 1);
         Due.formulaIs("1", 1);
         Due.formulaIs("a", 1);
@@ -198,7 +174,6 @@ public final class PromisesTest {
     // ---- 4
 
     private static void states() {
-        Due.sentence("promise 4");
         Due.due("a", Due.deskOf("a").states(), 8);
         Due.due("a&b>!c", Due.deskOf("a&b>!c").states(), 8);
         Due.due("Xa", Due.deskOf("Xa").states(), 16);
@@ -212,7 +187,6 @@ public final class PromisesTest {
     // ---- 5
 
     private static void isAtOrdinary() {
-        Due.sentence("promise 5");
         everyState("0", s -> false);
         everyState("1", s -> true);
         everyState("a", s -> Due.bit(s, 0));
@@ -278,7 +252,6 @@ public final class PromisesTest {
     // ---- 6
 
     private static void leads() {
-        Due.sentence("promise 6");
         LassoDesk next = Due.deskOf("Xa");
         LassoDesk release = Due.deskOf("aRb");
         for (int s = 0; s < 32; s++) {
@@ -304,7 +277,6 @@ public final class PromisesTest {
     // ---- 7, 8
 
     private static void lasts() {
-        Due.sentence("promise 7");
         everyLasts("a", s -> true);
         everyLasts("Fa", s -> true);
         everyLasts("Ga", s -> true);
@@ -335,7 +307,6 @@ public final class PromisesTest {
     }
 
     private static void lasting() {
-        Due.sentence("promise 8");
         Due.due("a", Due.deskOf("a").lasting(), 8);
         Due.due("Fa", Due.deskOf("Fa").lasting(), 16);
         Due.due("F0", Due.deskOf("F0").lasting(), 8);
@@ -348,7 +319,6 @@ public final class PromisesTest {
     // ---- 9
 
     private static void promises() {
-        Due.sentence("promise 9");
         Due.due("a", Due.deskOf("a").promises(), 0);
         Due.due("XXXXXa", Due.deskOf("XXXXXa").promises(), 0);
         Due.due("Fa", Due.deskOf("Fa").promises(), 1);
@@ -362,7 +332,6 @@ public final class PromisesTest {
     // ---- 10
 
     private static void can() {
-        Due.sentence("promise 10");
         for (String line : new String[] {"a", "1", "!0", "Fa", "Ga", "GFa&GF!a", "FGa", "aU(b&!a)", "0Ra", "F0>a", "Xa&!a",
             "Ga&GX!a>b", "!(GFa>FGa)", "!aUa", "aRa"}) {
             Due.due(line, Due.deskOf(line).can(), true);
@@ -376,38 +345,18 @@ public final class PromisesTest {
     // ---- 11, 12, 13
 
     private static void stemLoopStep() {
-        Due.sentence("promise 13");
-        walk("a", 1, 1, 0);
-        walk("!a", 0, 0);
-        walk("XXa", 3, 8, 16, 1, 0);
-        walk("Fa", 1, 1, 0);
-        walk("Ga", 0, 9);
-        walk("!Fa", 0, 0);
-        walk("GFa", 0, 24, 25);
-        walk("Fa&Fb", 1, 3, 0);
-        walk("G!a&GF!b", 0, 56);
-        walk("GFa&GFb", 1, 120, 121, 122);
-        walk("!G1", -1);
-        walk("a&!a", -1);
-    }
-
-    /** How many states of a walk are its stem (-1 when there is no walk), and all its states. */
-    private static void walk(String line, int stem, int... steps) {
-        LassoDesk desk = Due.deskOf(line);
-        Due.sentence("promise 11");
-        Due.due(line + " stem", desk.stem(), stem < 0 ? LassoDesk.NONE : stem);
-        Due.sentence("promise 12");
-        Due.due(line + " loop", desk.loop(), stem < 0 ? LassoDesk.NONE : steps.length - stem);
-        Due.sentence("promise 13");
-        for (int k = 0; k < steps.length; k++) {
-            Due.due(line + " step " + k, desk.step(k), steps[k]);
-        }
-        if (stem < 0) {
-            Due.noState(line + " step(0)", () -> desk.step(0));
-            Due.noState(line + " step(-1)", () -> desk.step(-1));
-        } else {
-            Due.outside(line + " step behind the loop", () -> desk.step(steps.length));
-        }
+        Due.walkIs("a", 1, 1, 0);
+        Due.walkIs("!a", 0, 0);
+        Due.walkIs("XXa", 3, 8, 16, 1, 0);
+        Due.walkIs("Fa", 1, 1, 0);
+        Due.walkIs("Ga", 0, 9);
+        Due.walkIs("!Fa", 0, 0);
+        Due.walkIs("GFa", 0, 24, 25);
+        Due.walkIs("Fa&Fb", 1, 3, 0);
+        Due.walkIs("G!a&GF!b", 0, 56);
+        Due.walkIs("GFa&GFb", 1, 120, 121, 122);
+        Due.noWalk(Due.deskOf("!G1"), "!G1");
+        Due.noWalk(Due.deskOf("a&!a"), "a&!a");
     }
 
     private static void stepWrong() {
@@ -421,7 +370,6 @@ public final class PromisesTest {
     // ---- 14
 
     private static void shape() {
-        Due.sentence("promise 14");
         LassoDesk desk = new LassoDesk();
         desk.set(0, 6);
         desk.shape(8, 8);
@@ -466,7 +414,6 @@ public final class PromisesTest {
     // ---- 15
 
     private static void set() {
-        Due.sentence("promise 15");
         LassoDesk desk = new LassoDesk();
         desk.shape(1, 2);
         Due.due("set(0, 5)", desk.set(0, 5), 0);
@@ -490,7 +437,6 @@ public final class PromisesTest {
     // ---- 16
 
     private static void adopt() {
-        Due.sentence("promise 16");
         LassoDesk desk = Due.deskOf("XXa");
         desk.shape(8, 8);
         desk.set(15, 7);
@@ -534,7 +480,6 @@ public final class PromisesTest {
     // ---- 17
 
     private static void letter() {
-        Due.sentence("promise 17");
         LassoDesk desk = new LassoDesk();
         desk.shape(3, 7);
         for (int k = 0; k < 10; k++) {
@@ -552,7 +497,6 @@ public final class PromisesTest {
     // ---- 18: the word is 1 2 0 | 5 2 | 5 2 | ...
 
     private static void holdsOrdinary() {
-        Due.sentence("promise 18");
         places("0", false, false, false, false, false);
         places("1", true, true, true, true, true);
         places("a", true, false, false, true, false);

@@ -9,39 +9,41 @@ public final class StateBoundariesTest {
     private static final String[] BY_TEMPORALS = {"a", "Fa", "XaUb", "FGaRb", "XXXXa", "XaUFbRGc"};
 
     public static void main(String[] args) {
-        numbersOfStates();
-        bitsOfStates();
-        leadsToItself();
-        leadsByExpectations();
-        leadsWithoutTemporals();
-        allButXArePromises();
-        openAndKeptOfF();
-        openAndKeptOfU();
-        openAndKeptOfG();
-        openAndKeptOfR();
-        largestSet();
-        leadsToOneOfTheSet();
-        everyPromiseThatIsOpen();
-        withinTheSet();
-        keptAtThatOneItself();
-        statesWithoutFormula();
-        isAtWithoutFormula();
-        isAtNoSuchState();
-        leadsWithoutFormula();
-        leadsNoSuchState();
-        lastsWithoutFormula();
-        lastsNoSuchState();
-        lastingFewestAndMost();
-        lastingWithoutFormula();
-        promisesNoneAndFive();
-        promisesWithoutFormula();
+        Due.test("STATES are the numbers from 0 below 2 to the power of 3 + n", StateBoundariesTest::numbersOfStates);
+        Due.test("bits 0, 1, 2 say a, b, c as letters do, bit 3 + i is the EXPECTATION of temporal part i",
+            StateBoundariesTest::bitsOfStates);
+        Due.test("A state LEADS TO another one (or itself)", StateBoundariesTest::leadsToItself);
+        Due.test("its expectation is what is at that one: of XP what P is there, of others what that part itself is there",
+            StateBoundariesTest::leadsByExpectations);
+        Due.test("LEADS TO when for each temporal part: there is none", StateBoundariesTest::leadsWithoutTemporals);
+        Due.test("All temporal parts but X are PROMISES", StateBoundariesTest::allButXArePromises);
+        Due.test("One is OPEN: F when the part is so there; KEPT: FP when P is so there", StateBoundariesTest::openAndKeptOfF);
+        Due.test("One is OPEN: U when the part is so there; KEPT: P U Q when Q is", StateBoundariesTest::openAndKeptOfU);
+        Due.test("One is OPEN: G when it is not so there; KEPT: GP when P is not", StateBoundariesTest::openAndKeptOfG);
+        Due.test("One is OPEN: R when it is not so there; KEPT: P R Q when Q is not", StateBoundariesTest::openAndKeptOfR);
+        Due.test("The states that LAST are the largest set", StateBoundariesTest::largestSet);
+        Due.test("each one leads to one of the set", StateBoundariesTest::leadsToOneOfTheSet);
+        Due.test("for every promise that is open at it", StateBoundariesTest::everyPromiseThatIsOpen);
+        Due.test("a state of the set at which that is kept is come to by going on within the set",
+            StateBoundariesTest::withinTheSet);
+        Due.test("(or is that one itself)", StateBoundariesTest::keptAtThatOneItself);
+        Due.test("states: IllegalStateException when there is no formula", StateBoundariesTest::statesWithoutFormula);
+        Due.test("isAt: IllegalStateException when there is no formula", StateBoundariesTest::isAtWithoutFormula);
+        Due.test("isAt: IndexOutOfBoundsException when there is no such state", StateBoundariesTest::isAtNoSuchState);
+        Due.test("leads: exceptions as for isAt, IllegalStateException", StateBoundariesTest::leadsWithoutFormula);
+        Due.test("leads: exceptions as for isAt, for either", StateBoundariesTest::leadsNoSuchState);
+        Due.test("lasts: exceptions as for isAt, IllegalStateException", StateBoundariesTest::lastsWithoutFormula);
+        Due.test("lasts: exceptions as for isAt, IndexOutOfBoundsException", StateBoundariesTest::lastsNoSuchState);
+        Due.test("lasting: How many states last", StateBoundariesTest::lastingFewestAndMost);
+        Due.test("lasting: IllegalStateException when there is no formula", StateBoundariesTest::lastingWithoutFormula);
+        Due.test("promises: How many promises there are", StateBoundariesTest::promisesNoneAndFive);
+        Due.test("promises: IllegalStateException when there is no formula", StateBoundariesTest::promisesWithoutFormula);
         Due.end();
     }
 
     // ---- Terms
 
     private static void numbersOfStates() {
-        Due.sentence("STATES are the numbers from 0 below 2 to the power of 3 + n");
         for (int n = 0; n <= 5; n++) {
             LassoDesk desk = Due.deskOf(BY_TEMPORALS[n]);
             int end = 8 << n;
@@ -54,7 +56,6 @@ public final class StateBoundariesTest {
     }
 
     private static void bitsOfStates() {
-        Due.sentence("bits 0, 1, 2 say a, b, c as letters do, bit 3 + i is the EXPECTATION of temporal part i");
         everyIsAt("a&!b&!c", s -> (s & 7) == 1);
         everyIsAt("!a&b&!c", s -> (s & 7) == 2);
         everyIsAt("!a&!b&c", s -> (s & 7) == 4);
@@ -64,7 +65,6 @@ public final class StateBoundariesTest {
     }
 
     private static void leadsToItself() {
-        Due.sentence("A state LEADS TO another one (or itself)");
         everyLeadsToItself("a", s -> true);
         everyLeadsToItself("Xa", s -> Due.bit(s, 3) == Due.bit(s, 0));
         everyLeadsToItself("Fa", s -> Due.bit(s, 3) || !Due.bit(s, 0));
@@ -80,7 +80,6 @@ public final class StateBoundariesTest {
     }
 
     private static void leadsByExpectations() {
-        Due.sentence("its expectation is what is at that one: of XP what P is there, of others what that part itself is there");
         for (int to = 0; to < 256; to++) {
             LassoDesk desk = Due.deskOf("XaUFbRGc");
             boolean some = Due.bit(to, 1) || Due.bit(to, 5);
@@ -106,7 +105,6 @@ public final class StateBoundariesTest {
     }
 
     private static void leadsWithoutTemporals() {
-        Due.sentence("LEADS TO when for each temporal part: there is none");
         LassoDesk desk = Due.deskOf("a&b>!c");
         for (int from = 0; from < 8; from++) {
             for (int to = 0; to < 8; to++) {
@@ -116,7 +114,6 @@ public final class StateBoundariesTest {
     }
 
     private static void allButXArePromises() {
-        Due.sentence("All temporal parts but X are PROMISES");
         Due.due("Xa", Due.deskOf("Xa").promises(), 0);
         Due.due("Fa", Due.deskOf("Fa").promises(), 1);
         Due.due("Ga", Due.deskOf("Ga").promises(), 1);
@@ -126,7 +123,6 @@ public final class StateBoundariesTest {
     }
 
     private static void openAndKeptOfF() {
-        Due.sentence("One is OPEN: F when the part is so there; KEPT: FP when P is so there");
         everyLasts("Fa", s -> true);
         everyLasts("F0", s -> !Due.bit(s, 3));
         everyLasts("F1", s -> Due.bit(s, 3));
@@ -134,7 +130,6 @@ public final class StateBoundariesTest {
     }
 
     private static void openAndKeptOfU() {
-        Due.sentence("One is OPEN: U when the part is so there; KEPT: P U Q when Q is");
         everyLasts("aUb", s -> true);
         everyLasts("aU0", s -> !Due.bit(s, 3));
         everyLasts("1U0", s -> !Due.bit(s, 3));
@@ -143,7 +138,6 @@ public final class StateBoundariesTest {
     }
 
     private static void openAndKeptOfG() {
-        Due.sentence("One is OPEN: G when it is not so there; KEPT: GP when P is not");
         everyLasts("Ga", s -> true);
         everyLasts("G1", s -> Due.bit(s, 3));
         everyLasts("G0", s -> !Due.bit(s, 3));
@@ -151,7 +145,6 @@ public final class StateBoundariesTest {
     }
 
     private static void openAndKeptOfR() {
-        Due.sentence("One is OPEN: R when it is not so there; KEPT: P R Q when Q is not");
         everyLasts("aRb", s -> true);
         everyLasts("aR1", s -> Due.bit(s, 3));
         everyLasts("0R1", s -> Due.bit(s, 3));
@@ -160,7 +153,6 @@ public final class StateBoundariesTest {
     }
 
     private static void largestSet() {
-        Due.sentence("The states that LAST are the largest set");
         everyLasts("a", s -> true);
         everyLasts("0", s -> true);
         everyLasts("XXXXXa", s -> true);
@@ -168,7 +160,6 @@ public final class StateBoundariesTest {
     }
 
     private static void leadsToOneOfTheSet() {
-        Due.sentence("each one leads to one of the set");
         everyLasts("X0", s -> !Due.bit(s, 3));
         everyLasts("X1", s -> Due.bit(s, 3));
         everyLasts("XX1", s -> Due.bit(s, 3) && Due.bit(s, 4));
@@ -177,10 +168,11 @@ public final class StateBoundariesTest {
         everyLasts("X(a&!a)", s -> !Due.bit(s, 3));
         everyLasts("Xa&X!a", s -> Due.bit(s, 3) != Due.bit(s, 4));
         everyLasts("X!Xa", s -> true);
+        everyLasts("F(a|b|c)", s -> true);
+        everyLasts("G(a&b&c)", s -> true);
     }
 
     private static void everyPromiseThatIsOpen() {
-        Due.sentence("for every promise that is open at it");
         everyLasts("F0|Fa", s -> !Due.bit(s, 3));
         everyLasts("Fa|F0", s -> !Due.bit(s, 4));
         everyLasts("Fa&G!a", s -> Due.bit(s, 3) != Due.bit(s, 4));
@@ -189,15 +181,15 @@ public final class StateBoundariesTest {
     }
 
     private static void withinTheSet() {
-        Due.sentence("a state of the set at which that is kept is come to by going on within the set");
         everyLasts("FX0", s -> s < 8);
         everyLasts("GX1", s -> s >= 24);
         everyLasts("F(a&X!a&Xa)", s -> Due.bit(s, 4) != Due.bit(s, 5) && !Due.bit(s, 3));
         everyLasts("F(a&F0)", s -> s < 8);
+        everyLasts("FG(a&b&c)", s -> !Due.bit(s, 4) || Due.bit(s, 3));
+        everyLasts("GF(a|b|c)", s -> !Due.bit(s, 3) || Due.bit(s, 4));
     }
 
     private static void keptAtThatOneItself() {
-        Due.sentence("(or is that one itself)");
         Due.due("Fa at a, not expected again", Due.deskOf("Fa").lasts(1), true);
         Due.due("Ga, not at a", Due.deskOf("Ga").lasts(8), true);
         Due.due("aUb at b, not expected again", Due.deskOf("aUb").lasts(2), true);
@@ -209,13 +201,11 @@ public final class StateBoundariesTest {
     // ---- Promises 4 to 9
 
     private static void statesWithoutFormula() {
-        Due.sentence("states: IllegalStateException when there is no formula");
         Due.noState("states()", () -> new LassoDesk().states());
         Due.noState("states() behind a refused line", () -> refused().states());
     }
 
     private static void isAtWithoutFormula() {
-        Due.sentence("isAt: IllegalStateException when there is no formula");
         for (int state : new int[] {0, 7, 8, -1, Integer.MAX_VALUE}) {
             Due.noState("isAt(" + state + ")", () -> new LassoDesk().isAt(state));
             Due.noState("isAt(" + state + ") behind a refused line", () -> refused().isAt(state));
@@ -223,7 +213,6 @@ public final class StateBoundariesTest {
     }
 
     private static void isAtNoSuchState() {
-        Due.sentence("isAt: IndexOutOfBoundsException when there is no such state");
         for (int n = 0; n <= 5; n++) {
             LassoDesk desk = Due.deskOf(BY_TEMPORALS[n]);
             for (int state : beyond(8 << n)) {
@@ -239,7 +228,6 @@ public final class StateBoundariesTest {
     }
 
     private static void leadsWithoutFormula() {
-        Due.sentence("leads: exceptions as for isAt, IllegalStateException");
         for (int state : new int[] {0, 8, -1, Integer.MAX_VALUE}) {
             Due.noState("leads(" + state + ", 0)", () -> new LassoDesk().leads(state, 0));
             Due.noState("leads(0, " + state + ")", () -> new LassoDesk().leads(0, state));
@@ -248,7 +236,6 @@ public final class StateBoundariesTest {
     }
 
     private static void leadsNoSuchState() {
-        Due.sentence("leads: exceptions as for isAt, for either");
         for (int n = 0; n <= 5; n++) {
             LassoDesk desk = Due.deskOf(BY_TEMPORALS[n]);
             int last = (8 << n) - 1;
@@ -266,7 +253,6 @@ public final class StateBoundariesTest {
     }
 
     private static void lastsWithoutFormula() {
-        Due.sentence("lasts: exceptions as for isAt, IllegalStateException");
         for (int state : new int[] {0, 8, -1, Integer.MAX_VALUE}) {
             Due.noState("lasts(" + state + ")", () -> new LassoDesk().lasts(state));
             Due.noState("lasts(" + state + ") behind a refused line", () -> refused().lasts(state));
@@ -274,7 +260,6 @@ public final class StateBoundariesTest {
     }
 
     private static void lastsNoSuchState() {
-        Due.sentence("lasts: exceptions as for isAt, IndexOutOfBoundsException");
         for (int n = 0; n <= 5; n++) {
             LassoDesk desk = Due.deskOf(BY_TEMPORALS[n]);
             for (int state : beyond(8 << n)) {
@@ -290,7 +275,6 @@ public final class StateBoundariesTest {
     }
 
     private static void lastingFewestAndMost() {
-        Due.sentence("lasting: How many states last");
         Due.due("0", Due.deskOf("0").lasting(), 8);
         Due.due("XXXXX0", Due.deskOf("XXXXX0").lasting(), 8);
         Due.due("FGFG1", Due.deskOf("FGFG1").lasting(), 8);
@@ -308,13 +292,11 @@ public final class StateBoundariesTest {
     }
 
     private static void lastingWithoutFormula() {
-        Due.sentence("lasting: IllegalStateException when there is no formula");
         Due.noState("lasting()", () -> new LassoDesk().lasting());
         Due.noState("lasting() behind a refused line", () -> refused().lasting());
     }
 
     private static void promisesNoneAndFive() {
-        Due.sentence("promises: How many promises there are");
         Due.due("1", Due.deskOf("1").promises(), 0);
         Due.due("XXXXXa", Due.deskOf("XXXXXa").promises(), 0);
         Due.due("FGaUbRc>Fc", Due.deskOf("FGaUbRc>Fc").promises(), 5);
@@ -326,7 +308,6 @@ public final class StateBoundariesTest {
     }
 
     private static void promisesWithoutFormula() {
-        Due.sentence("promises: IllegalStateException when there is no formula");
         Due.noState("promises()", () -> new LassoDesk().promises());
         Due.noState("promises() behind a refused line", () -> refused().promises());
     }

@@ -4,48 +4,51 @@
  */
 public final class WalkBoundariesTest {
     public static void main(String[] args) {
-        noStateToBeginAt();
-        beginsAtTheLeast();
-        beginsWithDuty0();
-        dutyNotOpen();
-        dutyKept();
-        dutyGoesOnAsLongAs();
-        dutyBecomesTheNext();
-        behindTheLastOne0();
-        dutyStaysWhenAllHold();
-        noPromiseAtAll();
-        fewestSteps();
-        stepsWithinLastingStates();
-        leastOfSeveral();
-        otherwiseTheLeastLasting();
-        stateAndDutyComeAgain();
-        dutyAsTheWalkGoesOn();
-        stemAndLoop();
-        formulaIsSoOnItsLetters();
-        canOrNot();
-        canWithoutFormula();
-        stemNone();
-        stemWithoutFormula();
-        loopNone();
-        loopWithoutFormula();
-        stepFrom0();
-        stepWithoutFormula();
-        stepWithoutWalk();
-        stepHasNotSoMany();
-        adoptTakesTheLetters();
-        adoptWithoutWalk();
-        adoptStemTooLong();
-        adoptLoopTooLong();
-        adoptFalseChangesNothing();
-        adoptWithoutFormula();
-        firstCallBehindFormula();
+        Due.test("THE WALK begins, when there is a state that lasts and at which the whole formula is so",
+            WalkBoundariesTest::noStateToBeginAt);
+        Due.test("at the least such one", WalkBoundariesTest::beginsAtTheLeast);
+        Due.test("with DUTY 0", WalkBoundariesTest::beginsWithDuty0);
+        Due.test("as long as the promise that is the duty is not open there", WalkBoundariesTest::dutyNotOpen);
+        Due.test("or is kept there", WalkBoundariesTest::dutyKept);
+        Due.test("as long as ..., the duty becomes the next one", WalkBoundariesTest::dutyGoesOnAsLongAs);
+        Due.test("the duty becomes the next one", WalkBoundariesTest::dutyBecomesTheNext);
+        Due.test("(behind the last one 0)", WalkBoundariesTest::behindTheLastOne0);
+        Due.test("when that holds for all promises the duty stays as it was when the state was come to",
+            WalkBoundariesTest::dutyStaysWhenAllHold);
+        Due.test("(or there is none) the duty stays as it was", WalkBoundariesTest::noPromiseAtAll);
+        Due.test("that has the fewest steps to one where the promise is kept", WalkBoundariesTest::fewestSteps);
+        Due.test("steps (within lasting states)", WalkBoundariesTest::stepsWithinLastingStates);
+        Due.test("the least of several", WalkBoundariesTest::leastOfSeveral);
+        Due.test("otherwise to the least lasting one to which it leads", WalkBoundariesTest::otherwiseTheLeastLasting);
+        Due.test("As soon as a state and a duty come again, the walk ends", WalkBoundariesTest::stateAndDutyComeAgain);
+        Due.test("a duty (as it is when the walk goes on from there)", WalkBoundariesTest::dutyAsTheWalkGoesOn);
+        Due.test("the states before the first of the two are the STEM, those from the first to before the second are the LOOP",
+            WalkBoundariesTest::stemAndLoop);
+        Due.test("Its letters, the loop again and again, are a word on which the formula is so",
+            WalkBoundariesTest::formulaIsSoOnItsLetters);
+        Due.test("can: Whether there is a walk", WalkBoundariesTest::canOrNot);
+        Due.test("can: IllegalStateException when there is no formula", WalkBoundariesTest::canWithoutFormula);
+        Due.test("stem: NONE when there is no walk", WalkBoundariesTest::stemNone);
+        Due.test("stem: IllegalStateException when there is no formula", WalkBoundariesTest::stemWithoutFormula);
+        Due.test("loop: NONE when there is no walk", WalkBoundariesTest::loopNone);
+        Due.test("loop: IllegalStateException when there is no formula", WalkBoundariesTest::loopWithoutFormula);
+        Due.test("step: State k (from 0) of the walk, stem and loop", WalkBoundariesTest::stepFrom0);
+        Due.test("step: IllegalStateException when there is no formula", WalkBoundariesTest::stepWithoutFormula);
+        Due.test("step: IllegalStateException when there is no walk", WalkBoundariesTest::stepWithoutWalk);
+        Due.test("step: IndexOutOfBoundsException when it has not so many", WalkBoundariesTest::stepHasNotSoMany);
+        Due.test("adopt: The letters of the walk become the given word: true", WalkBoundariesTest::adoptTakesTheLetters);
+        Due.test("adopt: false when there is no walk", WalkBoundariesTest::adoptWithoutWalk);
+        Due.test("adopt: false when its stem is too long", WalkBoundariesTest::adoptStemTooLong);
+        Due.test("adopt: false when its loop is too long", WalkBoundariesTest::adoptLoopTooLong);
+        Due.test("adopt: false, changing nothing", WalkBoundariesTest::adoptFalseChangesNothing);
+        Due.test("adopt: IllegalStateException when there is no formula", WalkBoundariesTest::adoptWithoutFormula);
+        Due.test("the walk of XXa, asked for at once", WalkBoundariesTest::firstCallBehindFormula);
         Due.end();
     }
 
     // ---- THE WALK
 
     private static void noStateToBeginAt() {
-        Due.sentence("THE WALK begins, when there is a state that lasts and at which the whole formula is so");
         LassoDesk so = Due.deskOf("F0");
         Due.due("F0 is so at 8", so.isAt(8), true);
         Due.due("8 does not last", so.lasts(8), false);
@@ -58,7 +61,6 @@ public final class WalkBoundariesTest {
     }
 
     private static void beginsAtTheLeast() {
-        Due.sentence("at the least such one");
         Due.walkIs("1", 0, 0);
         Due.walkIs("a", 1, 1, 0);
         Due.walkIs("c", 1, 4, 0);
@@ -69,47 +71,42 @@ public final class WalkBoundariesTest {
     }
 
     private static void beginsWithDuty0() {
-        Due.sentence("with DUTY 0");
         Due.walkIs("FG!a", 2, 8, 25, 24);
         Due.walkIs("FXG!b", 2, 8, 58, 56);
     }
 
     private static void dutyNotOpen() {
-        Due.sentence("as long as the promise that is the duty is not open there");
         Due.walkIs("aUc", 1, 4, 0);
         Due.walkIs("!Fa", 0, 0);
         Due.walkIs("Ga", 0, 9);
+        Due.walkIs("!F(a|b|c)", 0, 0);
+        Due.walkIs("G(a&b&c)", 0, 15);
     }
 
     private static void dutyKept() {
-        Due.sentence("or is kept there");
         Due.walkIs("0Uc", 1, 4, 0);
         Due.walkIs("Fa", 1, 1, 0);
         Due.walkIs("GFa", 0, 24, 25);
     }
 
     private static void dutyGoesOnAsLongAs() {
-        Due.sentence("as long as ..., the duty becomes the next one");
         Due.walkIs("FGFa", 0, 56, 57);
         Due.walkIs("GFFa", 0, 56, 57);
     }
 
     private static void dutyBecomesTheNext() {
-        Due.sentence("the duty becomes the next one");
         Due.walkIs("GFbUGc", 3, 56, 58, 120, 124, 126);
         Due.walkIs("FXcUGc", 4, 40, 56, 44, 120, 124);
         Due.walkIs("GaRFXa", 1, 48, 112, 49);
     }
 
     private static void behindTheLastOne0() {
-        Due.sentence("(behind the last one 0)");
         Due.walkIs("aR!Ga", 3, 1, 0, 16, 17);
         Due.walkIs("GFa|Ga", 0, 24, 25);
         Due.walkIs("GFaUXb", 4, 56, 57, 88, 27, 24, 25);
     }
 
     private static void dutyStaysWhenAllHold() {
-        Due.sentence("when that holds for all promises the duty stays as it was when the state was come to");
         Due.walkIs("GFa&a", 1, 25, 24, 25);
         Due.walkIs("GFaRa", 1, 25, 24, 56, 25);
         Due.walkIs("FGa", 2, 8, 24, 25);
@@ -117,7 +114,6 @@ public final class WalkBoundariesTest {
     }
 
     private static void noPromiseAtAll() {
-        Due.sentence("(or there is none) the duty stays as it was");
         Due.walkIs("!a", 0, 0);
         Due.walkIs("Xa", 2, 8, 1, 0);
         Due.walkIs("XXa", 3, 8, 16, 1, 0);
@@ -125,14 +121,12 @@ public final class WalkBoundariesTest {
     }
 
     private static void fewestSteps() {
-        Due.sentence("that has the fewest steps to one where the promise is kept");
         Due.walkIs("FXa", 3, 8, 16, 1, 0);
         Due.walkIs("FGa", 2, 8, 24, 25);
         Due.walkIs("GFc", 0, 24, 28);
     }
 
     private static void stepsWithinLastingStates() {
-        Due.sentence("steps (within lasting states)");
         Due.walkIs("XGFaRa", 1, 57, 56, 120, 57);
         Due.walkIs("F(a&XGa)", 2, 8, 56, 57);
         Due.walkIs("F(XX0|Ga)", 2, 8, 72, 73);
@@ -140,14 +134,12 @@ public final class WalkBoundariesTest {
     }
 
     private static void leastOfSeveral() {
-        Due.sentence("the least of several");
         Due.walkIs("GFb", 0, 24, 26);
         Due.walkIs("GF(a|b)", 0, 24, 25);
         Due.walkIs("GFa&GFb", 1, 120, 121, 122);
     }
 
     private static void otherwiseTheLeastLasting() {
-        Due.sentence("otherwise to the least lasting one to which it leads");
         Due.walkIs("a&b", 1, 3, 0);
         Due.due("X1: 8 leads to 0, which does not last", Due.deskOf("X1").leads(8, 0), true);
         Due.walkIs("X1", 0, 8);
@@ -156,20 +148,17 @@ public final class WalkBoundariesTest {
     }
 
     private static void stateAndDutyComeAgain() {
-        Due.sentence("As soon as a state and a duty come again, the walk ends");
         Due.walkIs("GFb&b", 1, 26, 24, 26);
         Due.walkIs("c&GFc", 1, 28, 24, 28);
         Due.walkIs("GFcRc", 1, 28, 24, 56, 28);
     }
 
     private static void dutyAsTheWalkGoesOn() {
-        Due.sentence("a duty (as it is when the walk goes on from there)");
         Due.walkIs("GFa", 0, 24, 25);
         Due.walkIs("FGFc", 0, 56, 60);
     }
 
     private static void stemAndLoop() {
-        Due.sentence("the states before the first of the two are the STEM, those from the first to before the second are the LOOP");
         Due.walkIs("1", 0, 0);
         Due.walkIs("a", 1, 1, 0);
         lengths("G(XXXXb|b)", 0, 8);
@@ -189,7 +178,6 @@ public final class WalkBoundariesTest {
     }
 
     private static void formulaIsSoOnItsLetters() {
-        Due.sentence("Its letters, the loop again and again, are a word on which the formula is so");
         for (String line : new String[] {"1", "a&!b", "XXXXXa", "Fa", "Ga", "aU(b&!a)", "aRb&F!b", "GFa&GFb&Fc", "!(GFa>FGa)", "FaUbRXXb",
             "G(XXXXb|b)", "G(a>Xb)&GF(a&c)"}) {
             LassoDesk desk = Due.deskOf(line);
@@ -201,7 +189,6 @@ public final class WalkBoundariesTest {
     // ---- Promises 10 to 13
 
     private static void canOrNot() {
-        Due.sentence("can: Whether there is a walk");
         Due.due("1", Due.deskOf("1").can(), true);
         Due.due("0", Due.deskOf("0").can(), false);
         LassoDesk desk = Due.deskOf("a&!a");
@@ -215,13 +202,11 @@ public final class WalkBoundariesTest {
     }
 
     private static void canWithoutFormula() {
-        Due.sentence("can: IllegalStateException when there is no formula");
         Due.noState("can()", () -> new LassoDesk().can());
         Due.noState("can() behind a refused line", () -> refused().can());
     }
 
     private static void stemNone() {
-        Due.sentence("stem: NONE when there is no walk");
         Due.due("0", Due.deskOf("0").stem(), -1);
         Due.due("F0", Due.deskOf("F0").stem(), LassoDesk.NONE);
         Due.due("Ga, an empty stem", Due.deskOf("Ga").stem(), 0);
@@ -233,13 +218,11 @@ public final class WalkBoundariesTest {
     }
 
     private static void stemWithoutFormula() {
-        Due.sentence("stem: IllegalStateException when there is no formula");
         Due.noState("stem()", () -> new LassoDesk().stem());
         Due.noState("stem() behind a refused line", () -> refused().stem());
     }
 
     private static void loopNone() {
-        Due.sentence("loop: NONE when there is no walk");
         Due.due("0", Due.deskOf("0").loop(), -1);
         Due.due("F0", Due.deskOf("F0").loop(), LassoDesk.NONE);
         Due.due("Ga, the shortest loop", Due.deskOf("Ga").loop(), 1);
@@ -251,13 +234,11 @@ public final class WalkBoundariesTest {
     }
 
     private static void loopWithoutFormula() {
-        Due.sentence("loop: IllegalStateException when there is no formula");
         Due.noState("loop()", () -> new LassoDesk().loop());
         Due.noState("loop() behind a refused line", () -> refused().loop());
     }
 
     private static void stepFrom0() {
-        Due.sentence("step: State k (from 0) of the walk, stem and loop");
         LassoDesk desk = Due.deskOf("GFa&GFb");
         Due.due("step(0), the stem", desk.step(0), 120);
         Due.due("step(1), the loop", desk.step(1), 121);
@@ -265,7 +246,6 @@ public final class WalkBoundariesTest {
     }
 
     private static void stepWithoutFormula() {
-        Due.sentence("step: IllegalStateException when there is no formula");
         for (int k : new int[] {0, 1, -1, Integer.MIN_VALUE, Integer.MAX_VALUE}) {
             Due.noState("step(" + k + ")", () -> new LassoDesk().step(k));
             Due.noState("step(" + k + ") behind a refused line", () -> refused().step(k));
@@ -273,7 +253,6 @@ public final class WalkBoundariesTest {
     }
 
     private static void stepWithoutWalk() {
-        Due.sentence("step: IllegalStateException when there is no walk");
         for (int k : new int[] {0, 1, -1, Integer.MIN_VALUE, Integer.MAX_VALUE}) {
             Due.noState("0 step(" + k + ")", () -> Due.deskOf("0").step(k));
             Due.noState("F0 step(" + k + ")", () -> Due.deskOf("F0").step(k));
@@ -286,7 +265,6 @@ public final class WalkBoundariesTest {
     }
 
     private static void stepHasNotSoMany() {
-        Due.sentence("step: IndexOutOfBoundsException when it has not so many");
         LassoDesk one = Due.deskOf("1");
         Due.due("step(0) of one", one.step(0), 0);
         for (int k : new int[] {1, 2, -1, Integer.MIN_VALUE, Integer.MAX_VALUE}) {
@@ -307,7 +285,6 @@ public final class WalkBoundariesTest {
     // ---- Promise 16
 
     private static void adoptTakesTheLetters() {
-        Due.sentence("adopt: The letters of the walk become the given word: true");
         LassoDesk desk = Due.deskOf("XXa");
         Due.giveWord(desk, 8, 7, 7, 7, 7, 7, 7, 7, 7, 7, 7, 7, 7, 7, 7, 7, 7);
         Due.due("adopt()", desk.adopt(), true);
@@ -325,7 +302,6 @@ public final class WalkBoundariesTest {
     }
 
     private static void adoptWithoutWalk() {
-        Due.sentence("adopt: false when there is no walk");
         Due.due("0", Due.deskOf("0").adopt(), false);
         Due.due("F0", Due.deskOf("F0").adopt(), false);
         LassoDesk desk = Due.deskOf("a");
@@ -337,7 +313,6 @@ public final class WalkBoundariesTest {
     }
 
     private static void adoptStemTooLong() {
-        Due.sentence("adopt: false when its stem is too long");
         adopted("FcUcRXc", 7, 1, true);
         adopted("FaUbRXXb", 8, 1, true);
         adopted("bUX(Xc)R(!(aUc))", 8, 6, true);
@@ -347,7 +322,6 @@ public final class WalkBoundariesTest {
     }
 
     private static void adoptLoopTooLong() {
-        Due.sentence("adopt: false when its loop is too long");
         adopted("GF(XXXb|b)", 0, 7, true);
         adopted("G(XXXXb|b)", 0, 8, true);
         adopted("(XXb)R!(aU(cUb))", 3, 8, true);
@@ -374,7 +348,6 @@ public final class WalkBoundariesTest {
     }
 
     private static void adoptFalseChangesNothing() {
-        Due.sentence("adopt: false, changing nothing");
         for (String line : new String[] {"0", "F0", "FcUXXcRc", "G(XXc>c|bUaR!c)"}) {
             LassoDesk desk = Due.deskOf(line);
             LassoDesk twin = Due.deskOf(line);
@@ -388,7 +361,6 @@ public final class WalkBoundariesTest {
     }
 
     private static void adoptWithoutFormula() {
-        Due.sentence("adopt: IllegalStateException when there is no formula");
         LassoDesk desk = new LassoDesk();
         Due.giveWord(desk, 1, 3, 0, 5);
         Due.noState("adopt()", desk::adopt);
@@ -398,7 +370,6 @@ public final class WalkBoundariesTest {
 
     /** Whichever call comes first behind formula(), its answer is the same. */
     private static void firstCallBehindFormula() {
-        Due.sentence("the walk of XXa, asked for at once");
         Due.due("lasts(31)", Due.deskOf("XXa").lasts(31), true);
         Due.due("lasting()", Due.deskOf("XXa").lasting(), 32);
         Due.due("can()", Due.deskOf("XXa").can(), true);

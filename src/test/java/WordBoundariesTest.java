@@ -7,38 +7,41 @@ public final class WordBoundariesTest {
     private static final int MAX = Integer.MAX_VALUE;
 
     public static void main(String[] args) {
-        lettersBits();
-        nothingAndAll();
-        nextPlace();
-        thereOrLater();
-        thereAndAtAllLater();
-        untilItComes();
-        untilAllPlacesBefore();
-        releaseIsNotUntil();
-        shapesThatFit();
-        shapesTooSmallOrTooLarge();
-        shapeRefusedChangesNothing();
-        lettersStayInTheirPlaces();
-        otherLettersAre0();
-        setFirstAndLast();
-        setLowestThreeBits();
-        setAnswersWhatItWas();
-        setNoneSuch();
-        setRefusedChangesNothing();
-        letterWithoutEnd();
-        letterBelow0();
-        holdsRoundTheLoop();
-        holdsWithoutEnd();
-        holdsWithoutFormula();
-        holdsBelow0();
-        holdsOfTheWordAsItIs();
+        Due.test("LETTERS 0 .. 7: a letter's bits 0, 1, 2 say whether a, b, c are so at that place",
+            WordBoundariesTest::lettersBits);
+        Due.test("At a place 1 is so, 0 is not; !, &, |, > as usual", WordBoundariesTest::nothingAndAll);
+        Due.test("XP when P is so at the next place", WordBoundariesTest::nextPlace);
+        Due.test("FP when P is so there or at some later place", WordBoundariesTest::thereOrLater);
+        Due.test("GP when it is there and at all later ones", WordBoundariesTest::thereAndAtAllLater);
+        Due.test("P U Q when Q is so there or later", WordBoundariesTest::untilItComes);
+        Due.test("and P at all places from there to before that", WordBoundariesTest::untilAllPlacesBefore);
+        Due.test("P R Q when not (!P U !Q)", WordBoundariesTest::releaseIsNotUntil);
+        Due.test("THE GIVEN WORD has a stem of 0 .. 8 letters and a loop of 1 .. 8 letters", WordBoundariesTest::shapesThatFit);
+        Due.test("shape: IllegalArgumentException when stem is not 0 .. 8 or loop not 1 .. 8",
+            WordBoundariesTest::shapesTooSmallOrTooLarge);
+        Due.test("shape: an exception changes nothing", WordBoundariesTest::shapeRefusedChangesNothing);
+        Due.test("shape: letters that it had stay in their places (counted from the beginning of the stem)",
+            WordBoundariesTest::lettersStayInTheirPlaces);
+        Due.test("shape: others are 0", WordBoundariesTest::otherLettersAre0);
+        Due.test("set: A letter of the given word (counted from 0, stem and loop)", WordBoundariesTest::setFirstAndLast);
+        Due.test("set: becomes the lowest three bits of this one", WordBoundariesTest::setLowestThreeBits);
+        Due.test("set: what it was", WordBoundariesTest::setAnswersWhatItWas);
+        Due.test("set: IndexOutOfBoundsException when there is none such", WordBoundariesTest::setNoneSuch);
+        Due.test("set: an exception changes nothing", WordBoundariesTest::setRefusedChangesNothing);
+        Due.test("letter: Letter k of the given word, which goes on without end", WordBoundariesTest::letterWithoutEnd);
+        Due.test("letter: IndexOutOfBoundsException when k is below 0", WordBoundariesTest::letterBelow0);
+        Due.test("holds: the loop goes again and again, behind its last letter comes its first",
+            WordBoundariesTest::holdsRoundTheLoop);
+        Due.test("holds: Whether the formula is so at place k of the given word", WordBoundariesTest::holdsWithoutEnd);
+        Due.test("holds: IllegalStateException when there is no formula", WordBoundariesTest::holdsWithoutFormula);
+        Due.test("holds: IndexOutOfBoundsException when k is below 0", WordBoundariesTest::holdsBelow0);
+        Due.test("holds: of the given word as it is now", WordBoundariesTest::holdsOfTheWordAsItIs);
         Due.end();
     }
 
     // ---- A WORD
 
     private static void lettersBits() {
-        Due.sentence("LETTERS 0 .. 7: a letter's bits 0, 1, 2 say whether a, b, c are so at that place");
         for (int letter = 0; letter < 8; letter++) {
             so("a", Due.bit(letter, 0), 0, 0, letter);
             so("b", Due.bit(letter, 1), 0, 0, letter);
@@ -49,7 +52,6 @@ public final class WordBoundariesTest {
     }
 
     private static void nothingAndAll() {
-        Due.sentence("At a place 1 is so, 0 is not; !, &, |, > as usual");
         for (int letter = 0; letter < 8; letter++) {
             boolean a = Due.bit(letter, 0);
             boolean b = Due.bit(letter, 1);
@@ -63,7 +65,6 @@ public final class WordBoundariesTest {
     }
 
     private static void nextPlace() {
-        Due.sentence("XP when P is so at the next place");
         so("Xa", true, 0, 1, 0, 1);
         so("Xa", false, 0, 1, 1, 0);
         so("Xa", true, 0, 0, 1);
@@ -74,7 +75,6 @@ public final class WordBoundariesTest {
     }
 
     private static void thereOrLater() {
-        Due.sentence("FP when P is so there or at some later place");
         so("Fa", true, 0, 1, 1, 0);
         so("Fa", false, 1, 1, 1, 0);
         so("Fa", true, 0, 2, 0, 0, 0, 1);
@@ -86,7 +86,6 @@ public final class WordBoundariesTest {
     }
 
     private static void thereAndAtAllLater() {
-        Due.sentence("GP when it is there and at all later ones");
         so("Ga", false, 0, 1, 0, 1);
         so("Ga", true, 1, 1, 0, 1);
         so("Ga", false, 0, 2, 1, 1, 1, 0);
@@ -98,7 +97,6 @@ public final class WordBoundariesTest {
     }
 
     private static void untilItComes() {
-        Due.sentence("P U Q when Q is so there or later");
         so("aUb", true, 0, 0, 2);
         so("aUb", false, 0, 0, 1);
         so("aUb", false, 0, 1, 1, 1);
@@ -109,7 +107,6 @@ public final class WordBoundariesTest {
     }
 
     private static void untilAllPlacesBefore() {
-        Due.sentence("and P at all places from there to before that");
         so("aUb", true, 0, 1, 2, 0);
         so("aUb", false, 0, 1, 0, 2);
         so("aUb", true, 0, 2, 1, 1, 2);
@@ -120,7 +117,6 @@ public final class WordBoundariesTest {
     }
 
     private static void releaseIsNotUntil() {
-        Due.sentence("P R Q when not (!P U !Q)");
         so("aRb", true, 0, 0, 2);
         so("aRb", true, 0, 1, 3, 0);
         so("aRb", false, 0, 1, 1, 2);
@@ -151,7 +147,6 @@ public final class WordBoundariesTest {
     // ---- THE GIVEN WORD, promise 14
 
     private static void shapesThatFit() {
-        Due.sentence("THE GIVEN WORD has a stem of 0 .. 8 letters and a loop of 1 .. 8 letters");
         for (int stem = 0; stem <= 8; stem++) {
             for (int loop = 1; loop <= 8; loop++) {
                 LassoDesk desk = new LassoDesk();
@@ -166,7 +161,6 @@ public final class WordBoundariesTest {
     }
 
     private static void shapesTooSmallOrTooLarge() {
-        Due.sentence("shape: IllegalArgumentException when stem is not 0 .. 8 or loop not 1 .. 8");
         for (int stem = -2; stem <= 10; stem++) {
             for (int loop = -2; loop <= 10; loop++) {
                 if (stem < 0 || stem > 8 || loop < 1 || loop > 8) {
@@ -186,7 +180,6 @@ public final class WordBoundariesTest {
     }
 
     private static void shapeRefusedChangesNothing() {
-        Due.sentence("shape: an exception changes nothing");
         int[][] shapes = {{9, 1}, {-1, 1}, {0, 0}, {0, 9}, {0, -1}, {-1, 0}, {9, 9}, {8, 9}, {9, 8}, {MIN, 1}, {1, MAX}};
         for (int[] shape : shapes) {
             LassoDesk desk = new LassoDesk();
@@ -197,7 +190,6 @@ public final class WordBoundariesTest {
     }
 
     private static void lettersStayInTheirPlaces() {
-        Due.sentence("shape: letters that it had stay in their places (counted from the beginning of the stem)");
         LassoDesk desk = new LassoDesk();
         Due.giveWord(desk, 2, 1, 2, 3, 4, 5);
         desk.shape(2, 3);
@@ -219,7 +211,6 @@ public final class WordBoundariesTest {
     }
 
     private static void otherLettersAre0() {
-        Due.sentence("shape: others are 0");
         LassoDesk desk = new LassoDesk();
         desk.set(0, 7);
         desk.shape(1, 2);
@@ -236,7 +227,6 @@ public final class WordBoundariesTest {
     // ---- Promise 15
 
     private static void setFirstAndLast() {
-        Due.sentence("set: A letter of the given word (counted from 0, stem and loop)");
         for (int[] shape : new int[][] {{0, 1}, {0, 8}, {8, 1}, {8, 8}, {3, 2}}) {
             LassoDesk desk = new LassoDesk();
             desk.shape(shape[0], shape[1]);
@@ -251,7 +241,6 @@ public final class WordBoundariesTest {
     }
 
     private static void setLowestThreeBits() {
-        Due.sentence("set: becomes the lowest three bits of this one");
         for (int letter : new int[] {0, 7, 8, 9, 15, 16, 255, 256, -1, -2, -7, -8, -9, MIN, MIN + 5, MAX, MAX - 1}) {
             LassoDesk desk = new LassoDesk();
             desk.set(0, letter);
@@ -261,7 +250,6 @@ public final class WordBoundariesTest {
     }
 
     private static void setAnswersWhatItWas() {
-        Due.sentence("set: what it was");
         LassoDesk desk = new LassoDesk();
         desk.shape(1, 1);
         Due.due("set(0, 5)", desk.set(0, 5), 0);
@@ -273,7 +261,6 @@ public final class WordBoundariesTest {
     }
 
     private static void setNoneSuch() {
-        Due.sentence("set: IndexOutOfBoundsException when there is none such");
         for (int stem = 0; stem <= 8; stem++) {
             for (int loop = 1; loop <= 8; loop++) {
                 LassoDesk desk = new LassoDesk();
@@ -293,7 +280,6 @@ public final class WordBoundariesTest {
     }
 
     private static void setRefusedChangesNothing() {
-        Due.sentence("set: an exception changes nothing");
         LassoDesk desk = new LassoDesk();
         Due.giveWord(desk, 1, 1, 2, 3);
         for (int k : new int[] {-1, 3, 4, 15, 16, MIN, MAX}) {
@@ -307,7 +293,6 @@ public final class WordBoundariesTest {
     // ---- Promise 17
 
     private static void letterWithoutEnd() {
-        Due.sentence("letter: Letter k of the given word, which goes on without end");
         for (int stem = 0; stem <= 8; stem++) {
             for (int loop = 1; loop <= 8; loop++) {
                 LassoDesk desk = new LassoDesk();
@@ -330,7 +315,6 @@ public final class WordBoundariesTest {
     }
 
     private static void letterBelow0() {
-        Due.sentence("letter: IndexOutOfBoundsException when k is below 0");
         LassoDesk desk = new LassoDesk();
         for (int[] shape : new int[][] {{0, 1}, {8, 8}, {8, 1}}) {
             desk.shape(shape[0], shape[1]);
@@ -344,7 +328,6 @@ public final class WordBoundariesTest {
     // ---- Promise 18
 
     private static void holdsRoundTheLoop() {
-        Due.sentence("holds: the loop goes again and again, behind its last letter comes its first");
         so("Xb", true, 2, 1, 0, 2, 0);
         so("Xb", false, 2, 1, 2, 0, 0);
         so("Xb", true, 2, 0, 2, 0, 0);
@@ -357,7 +340,6 @@ public final class WordBoundariesTest {
     }
 
     private static void holdsWithoutEnd() {
-        Due.sentence("holds: Whether the formula is so at place k of the given word");
         for (int stem = 0; stem <= 8; stem++) {
             for (int loop = 1; loop <= 8; loop++) {
                 LassoDesk now = Due.deskOf("a");
@@ -380,7 +362,6 @@ public final class WordBoundariesTest {
     }
 
     private static void holdsWithoutFormula() {
-        Due.sentence("holds: IllegalStateException when there is no formula");
         for (int k : new int[] {0, 1, MAX, -1, MIN}) {
             Due.noState("holds(" + k + ")", () -> new LassoDesk().holds(k));
         }
@@ -391,7 +372,6 @@ public final class WordBoundariesTest {
     }
 
     private static void holdsBelow0() {
-        Due.sentence("holds: IndexOutOfBoundsException when k is below 0");
         for (String line : new String[] {"0", "1", "Fa", "F0"}) {
             LassoDesk desk = Due.deskOf(line);
             for (int k : new int[] {-1, -2, -8, -16, MIN, MIN + 1}) {
@@ -402,7 +382,6 @@ public final class WordBoundariesTest {
     }
 
     private static void holdsOfTheWordAsItIs() {
-        Due.sentence("holds: of the given word as it is now");
         LassoDesk desk = Due.deskOf("Fa");
         Due.due("on a new object's word", desk.holds(0), false);
         desk.set(0, 1);
