@@ -74,6 +74,13 @@ public final class LineBoundariesTest {
         Due.typeAll(desk, "!!!!!!!!!!!!!!!!!!");
         Due.due("a 19th character", desk.type('a'), false);
         Due.illegal("18 signs without an end", desk::formula);
+        LassoDesk longest = Due.deskOf("!!!!!!!!!!!!!!!!!a");
+        Due.due("isAt(0) of the longest", longest.isAt(0), true);
+        Due.due("lasting() of the longest", longest.lasting(), 8);
+        Due.due("step(0) of the longest", longest.step(0), 0);
+        Due.due("holds(0) of the longest", longest.holds(0), true);
+        longest.set(0, 1);
+        Due.due("holds(0) of the longest, at a", longest.holds(0), false);
     }
 
     private static void noBlanks() {

@@ -294,11 +294,17 @@ public final class WalkBoundariesTest {
         LassoDesk shortest = Due.deskOf("G(a&c)");
         Due.due("adopt() of a loop alone", shortest.adopt(), true);
         Due.wordIs(shortest, 0, 5);
-        LassoDesk longer = Due.deskOf("GFa");
+        LassoDesk longer = Due.deskOf("GFa&GFb");
         Due.due("adopt() behind one letter", longer.adopt(), true);
-        Due.wordIs(longer, 0, 0, 1);
+        Due.wordIs(longer, 1, 0, 1, 2);
         Due.due("adopt() again", longer.adopt(), true);
-        Due.wordIs(longer, 0, 0, 1);
+        Due.wordIs(longer, 1, 0, 1, 2);
+        Due.typeAll(longer, "a");
+        longer.formula();
+        Due.due("adopt() of a shorter walk", longer.adopt(), true);
+        Due.wordIs(longer, 1, 1, 0);
+        longer.shape(2, 2);
+        Due.wordIs(longer, 2, 1, 0, 0, 0);
     }
 
     private static void adoptWithoutWalk() {
