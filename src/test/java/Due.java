@@ -1,3 +1,5 @@
+import java.util.function.IntPredicate;
+
 /** What the tests share: desks with a formula or a word, and answers compared with those that are due. */
 final class Due {
     /** Of one sentence only the first wrong answers are printed, so that the others are seen too. */
@@ -22,13 +24,13 @@ final class Due {
         try {
             test.act();
         } catch (RuntimeException | StackOverflowError e) {
-            tellWrong("a call threw " + e + " at " + e.getStackTrace()[0]);
+            wrong("a call threw " + e + " at " + e.getStackTrace()[0]);
         }
     }
 
     static void due(String what, Object got, Object want) {
         if (!got.equals(want)) {
-            tellWrong(what + " answered " + got + ", due is " + want);
+            wrong(what + " answered " + got + ", due is " + want);
         }
     }
 
@@ -54,10 +56,10 @@ final class Due {
             }
             got = e.toString();
         }
-        tellWrong(what + " threw " + got + ", due is " + due.getSimpleName());
+        wrong(what + " threw " + got + ", due is " + due.getSimpleName());
     }
 
-    private static void tellWrong(String what) {
+    static void wrong(String what) {
         wrong++;
         wrongOfSentence++;
         if (wrongOfSentence <= PRINTED) {
@@ -89,10 +91,18 @@ final class Due {
 
     static int pack(String text) {
         int four = 0;
-        for (int i = 0; i < text.length(); i++) {
+        for (int i = 0; i < text.length() && i < 4; i++) {
             four |= text.charAt(i) << 8 * i;
         }
         return four;
+    }
+
+    /** A desk without a formula, whose only line was none. */
+    static LassoDesk refused() {
+        LassoDesk desk = new LassoDesk();
+        typeAll(desk, "Fa&");
+        illegal("formula() of Fa&", desk::formula);
+        return desk;
     }
 
     static int codes(int first, int second, int third, int fourth) {
@@ -138,6 +148,22 @@ final class Due {
         noState("stem()", desk::stem);
         noState("loop()", desk::loop);
         noState("adopt()", desk::adopt);
+    }
+
+    static void everyIsAt(String line, IntPredicate so) {
+        LassoDesk desk = deskOf(line);
+        int states = desk.states();
+        for (int s = 0; s < states; s++) {
+            due(line + " at " + s, desk.isAt(s), so.test(s));
+        }
+    }
+
+    static void everyLasts(String line, IntPredicate lasts) {
+        LassoDesk desk = deskOf(line);
+        int states = desk.states();
+        for (int s = 0; s < states; s++) {
+            due(line + " lasts " + s, desk.lasts(s), lasts.test(s));
+        }
     }
 
     /** Two desks that have been used alike, but for calls that change nothing, answer alike. */

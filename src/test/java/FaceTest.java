@@ -30,7 +30,15 @@ public final class FaceTest {
     };
 
     public static void main(String[] args) {
-        Set<String> due = new TreeSet<>(Set.of(FACE));
+        Due.test("the public face", FaceTest::faceIsTheDocuments);
+        Due.test("public final class LassoDesk", FaceTest::classIsPublicAndFinal);
+        Due.test("NONE = -1", () -> Due.due("NONE", LassoDesk.NONE, -1));
+        Due.test("LANGUAGE.md, rule 1: the classes inside", FaceTest::classesInsideAreHidden);
+        Due.test("LANGUAGE.md, rule 1: no private method bears the name of a public one", FaceTest::oneMethodToAName);
+        Due.end();
+    }
+
+    private static void faceIsTheDocuments() {
         Set<String> found = new TreeSet<>();
         for (Field field : LassoDesk.class.getDeclaredFields()) {
             addSeen(found, field.getModifiers(), field.toGenericString());
@@ -38,25 +46,10 @@ public final class FaceTest {
         for (Constructor<?> made : LassoDesk.class.getDeclaredConstructors()) {
             addSeen(found, made.getModifiers(), made.toGenericString());
         }
-        boolean good = true;
-        Set<String> names = new TreeSet<>();
         for (Method method : LassoDesk.class.getDeclaredMethods()) {
             addSeen(found, method.getModifiers(), method.toGenericString());
-            good &= isGood(method.getName(), names.add(method.getName()), "two methods bear this name");
         }
-        good &= isGood("the face", found.equals(due), "found " + found);
-        int modifiers = LassoDesk.class.getModifiers();
-        good &= isGood("the class", Modifier.isPublic(modifiers) && Modifier.isFinal(modifiers), "is not public and final");
-        good &= isGood("NONE", LassoDesk.NONE == -1, "is not -1");
-        for (Class<?> inside : LassoDesk.class.getDeclaredClasses()) {
-            int kind = inside.getModifiers();
-            good &= isGood(inside.getName(), Modifier.isStatic(kind) && !Modifier.isPublic(kind) && !Modifier.isProtected(kind),
-                "is not static and hidden");
-        }
-        System.out.println(good ? "all answers are as due" : "the face is not as due");
-        if (!good) {
-            System.exit(1);
-        }
+        Due.due("what can be seen", found, new TreeSet<>(Set.of(FACE)));
     }
 
     private static void addSeen(Set<String> found, int modifiers, String text) {
@@ -65,10 +58,23 @@ public final class FaceTest {
         }
     }
 
-    private static boolean isGood(String what, boolean good, String otherwise) {
-        if (!good) {
-            System.out.println(what + ": " + otherwise);
+    private static void classIsPublicAndFinal() {
+        Due.due("public", Modifier.isPublic(LassoDesk.class.getModifiers()), true);
+        Due.due("final", Modifier.isFinal(LassoDesk.class.getModifiers()), true);
+    }
+
+    private static void classesInsideAreHidden() {
+        for (Class<?> inside : LassoDesk.class.getDeclaredClasses()) {
+            int kind = inside.getModifiers();
+            Due.due(inside.getName() + " static", Modifier.isStatic(kind), true);
+            Due.due(inside.getName() + " hidden", !Modifier.isPublic(kind) && !Modifier.isProtected(kind), true);
         }
-        return good;
+    }
+
+    private static void oneMethodToAName() {
+        Set<String> names = new TreeSet<>();
+        for (Method method : LassoDesk.class.getDeclaredMethods()) {
+            Due.due(method.getName() + " for the first time", names.add(method.getName()), true);
+        }
     }
 }

@@ -9,28 +9,24 @@ import java.util.List;
  * desk is used for more than 512 calls: what comes behind them is free.
  */
 public final class ModelTest {
-    private static int wrong = 0;
     private static long seed = 20261115L;
 
     public static void main(String[] args) {
-        for (int run = 0; run < 800; run++) {
-            compareRun(run);
-        }
-        for (int i = 0; i < 1000; i++) {
-            compareWhole(randomFormula(5));
-        }
-        for (String line : shortLines()) {
-            compareReading(line);
-        }
-        checkWalksHold();
-        checkWordsCan();
-        System.out.println(wrong == 0 ? "all answers are as due" : wrong + " answers are not as due");
-        if (wrong != 0) {
-            System.exit(1);
-        }
+        Due.test("runs of calls", ModelTest::compareRuns);
+        Due.test("everything about a formula", ModelTest::compareFormulas);
+        Due.test("short lines", ModelTest::compareLines);
+        Due.test("its letters, the loop again and again, are a word on which the formula is so", ModelTest::walksHold);
+        Due.test("a formula that is so at some place of some word can be so", ModelTest::wordsCan);
+        Due.end();
     }
 
     // ---- runs of calls
+
+    private static void compareRuns() {
+        for (int run = 0; run < 800; run++) {
+            compareRun(run);
+        }
+    }
 
     private static void compareRun(int run) {
         LassoDesk desk = new LassoDesk();
@@ -45,7 +41,7 @@ public final class ModelTest {
             String due = model.answerOf(call);
             told.append(NAMES[call[0]]).append('(').append(call[1]).append(", ").append(call[2]).append(") ").append(due).append('\n');
             if (!got.equals(due)) {
-                fail("run " + run + ":\n" + told + "the last one answered " + got);
+                Due.wrong("run " + run + ":\n" + told + "the last one answered " + got);
                 return;
             }
         }
@@ -59,7 +55,7 @@ public final class ModelTest {
         if (kind < 2) {
             addLine(calls, random(4) == 0 ? spoil(randomFormula(6)) : randomFormula(6));
         } else if (kind < 3) {
-            calls.add(new int[] {0, random(3) == 0 ? wildInt() : pack(spoil(randomFormula(3))), 0});
+            calls.add(new int[] {0, random(3) == 0 ? wildInt() : Due.pack(spoil(randomFormula(3))), 0});
         } else {
             int name = 2 + random(NAMES.length - 2);
             calls.add(new int[] {name, argument(name), argument(name)});
@@ -69,7 +65,7 @@ public final class ModelTest {
     private static void addLine(List<int[]> calls, String line) {
         for (int i = 0; i < line.length(); ) {
             int count = Math.min(1 + random(4), line.length() - i);
-            calls.add(new int[] {0, pack(line.substring(i, i + count)), 0});
+            calls.add(new int[] {0, Due.pack(line.substring(i, i + count)), 0});
             i += count;
         }
         calls.add(new int[] {1, 0, 0});
@@ -119,24 +115,30 @@ public final class ModelTest {
 
     // ---- one formula, everything that can be asked of it
 
+    private static void compareFormulas() {
+        for (int i = 0; i < 1000; i++) {
+            compareWhole(randomFormula(5));
+        }
+    }
+
     private static void compareWhole(String line) {
-        LassoDesk desk = deskOf(line);
+        LassoDesk desk = Due.deskOf(line);
         Model model = new Model();
         model.form(line);
         boolean same = desk.states() == model.stateCount() && desk.promises() == model.promised.size();
         for (int s = 0; same && s < model.stateCount(); s++) {
             // Two calls for each of 256 states are too many for one desk.
             if (s == model.stateCount() / 2) {
-                desk = deskOf(line);
+                desk = Due.deskOf(line);
             }
             same = desk.isAt(s) == model.isSo(model.root, s) && desk.lasts(s) == model.lasting[s];
             same = same && leadsAlike(line, s, model);
         }
-        check(same && walksAlike(line, model), "everything about " + line);
+        Due.due("a comparison of " + line, same && walksAlike(line, model), true);
     }
 
     private static boolean leadsAlike(String line, int from, Model model) {
-        LassoDesk desk = deskOf(line);
+        LassoDesk desk = Due.deskOf(line);
         boolean same = true;
         for (int to = 0; same && to < model.stateCount(); to++) {
             same = desk.leads(from, to) == model.edges[from][to];
@@ -145,13 +147,19 @@ public final class ModelTest {
     }
 
     private static boolean walksAlike(String line, Model model) {
-        LassoDesk desk = deskOf(line);
+        LassoDesk desk = Due.deskOf(line);
         boolean same = desk.lasting() == model.countLasting() && desk.can() == (model.stem >= 0)
             && desk.stem() == model.stem && desk.loop() == model.loop;
         for (int k = 0; same && k < model.walk.size(); k++) {
             same = desk.step(k) == model.walk.get(k);
         }
         return same;
+    }
+
+    private static void compareLines() {
+        for (String line : shortLines()) {
+            compareReading(line);
+        }
     }
 
     private static void compareReading(String line) {
@@ -163,9 +171,8 @@ public final class ModelTest {
             due = "IllegalArgumentException";
         }
         LassoDesk desk = new LassoDesk();
-        typeLine(desk, line);
-        String got = answerOf(desk, new int[] {1, 0, 0});
-        check(got.equals(due), line + " answered " + got + ", due is " + due);
+        Due.typeAll(desk, line);
+        Due.due(line, answerOf(desk, new int[] {1, 0, 0}), due);
     }
 
     /** All lines of up to four characters over the signs, and all rows of up to five nested brackets. */
@@ -191,26 +198,24 @@ public final class ModelTest {
 
     // ---- what the document says of all formulas and words
 
-    /** "Its letters, the loop again and again, are a word on which the formula is so." */
-    private static void checkWalksHold() {
+    private static void walksHold() {
         for (int i = 0; i < 3000; i++) {
             String line = randomFormula(5);
-            LassoDesk desk = deskOf(line);
+            LassoDesk desk = Due.deskOf(line);
             if (desk.adopt()) {
-                check(desk.holds(0), line + " is not so on the word of its own walk");
+                Due.due(line + " on the word of its own walk", desk.holds(0), true);
             }
         }
     }
 
-    /** A formula that is so somewhere on some word can be so. */
-    private static void checkWordsCan() {
+    private static void wordsCan() {
         for (int i = 0; i < 3000; i++) {
             String line = randomFormula(5);
-            if (deskOf(line).can()) {
+            if (Due.deskOf(line).can()) {
                 continue;
             }
             for (int word = 0; word < 20; word++) {
-                LassoDesk desk = deskOf(line);
+                LassoDesk desk = Due.deskOf(line);
                 int stem = random(9);
                 int loop = 1 + random(8);
                 desk.shape(stem, loop);
@@ -218,34 +223,13 @@ public final class ModelTest {
                     desk.set(k, random(8));
                 }
                 for (int k = 0; k < stem + loop; k++) {
-                    check(!desk.holds(k), line + " can't be so, and is so on a word");
+                    Due.due(line + ", which can't be so, on a word", desk.holds(k), false);
                 }
             }
         }
     }
 
     // ---- helpers
-
-    private static LassoDesk deskOf(String line) {
-        LassoDesk desk = new LassoDesk();
-        typeLine(desk, line);
-        desk.formula();
-        return desk;
-    }
-
-    private static void typeLine(LassoDesk desk, String line) {
-        for (int i = 0; i < line.length(); i += 4) {
-            desk.type(pack(line.substring(i, Math.min(i + 4, line.length()))));
-        }
-    }
-
-    private static int pack(String text) {
-        int four = 0;
-        for (int i = 0; i < text.length() && i < 4; i++) {
-            four |= text.charAt(i) << 8 * i;
-        }
-        return four;
-    }
 
     private static int random(int below) {
         seed = seed * 6364136223846793005L + 1442695040888963407L;
@@ -296,19 +280,6 @@ public final class ModelTest {
             default: spoilt.setCharAt(at, other);
         }
         return spoilt.toString();
-    }
-
-    private static void check(boolean good, String what) {
-        if (!good) {
-            fail(what);
-        }
-    }
-
-    private static void fail(String what) {
-        wrong++;
-        if (wrong <= 20) {
-            System.out.println(what);
-        }
     }
 
     // ---- the model

@@ -1,5 +1,3 @@
-import java.util.function.IntPredicate;
-
 /** Promises 1 to 18, one after the other: ordinary inputs, the edges that the document names, wrong inputs. */
 public final class PromisesTest {
     public static void main(String[] args) {
@@ -187,57 +185,49 @@ public final class PromisesTest {
     // ---- 5
 
     private static void isAtOrdinary() {
-        everyState("0", s -> false);
-        everyState("1", s -> true);
-        everyState("a", s -> Due.bit(s, 0));
-        everyState("b", s -> Due.bit(s, 1));
-        everyState("c", s -> Due.bit(s, 2));
-        everyState("!a", s -> !Due.bit(s, 0));
-        everyState("a&b", s -> Due.bit(s, 0) && Due.bit(s, 1));
-        everyState("b|c", s -> Due.bit(s, 1) || Due.bit(s, 2));
-        everyState("a>c", s -> !Due.bit(s, 0) || Due.bit(s, 2));
-        everyState("!(a&b)|c", s -> !(Due.bit(s, 0) && Due.bit(s, 1)) || Due.bit(s, 2));
+        Due.everyIsAt("0", s -> false);
+        Due.everyIsAt("1", s -> true);
+        Due.everyIsAt("a", s -> Due.bit(s, 0));
+        Due.everyIsAt("b", s -> Due.bit(s, 1));
+        Due.everyIsAt("c", s -> Due.bit(s, 2));
+        Due.everyIsAt("!a", s -> !Due.bit(s, 0));
+        Due.everyIsAt("a&b", s -> Due.bit(s, 0) && Due.bit(s, 1));
+        Due.everyIsAt("b|c", s -> Due.bit(s, 1) || Due.bit(s, 2));
+        Due.everyIsAt("a>c", s -> !Due.bit(s, 0) || Due.bit(s, 2));
+        Due.everyIsAt("!(a&b)|c", s -> !(Due.bit(s, 0) && Due.bit(s, 1)) || Due.bit(s, 2));
     }
 
     private static void isAtTemporal() {
-        everyState("Xa", s -> Due.bit(s, 3));
-        everyState("Fa", s -> Due.bit(s, 0) || Due.bit(s, 3));
-        everyState("Gb", s -> Due.bit(s, 1) && Due.bit(s, 3));
-        everyState("aUb", s -> Due.bit(s, 1) || Due.bit(s, 0) && Due.bit(s, 3));
-        everyState("aRb", s -> Due.bit(s, 1) && (Due.bit(s, 0) || Due.bit(s, 3)));
-        everyState("XFa", s -> Due.bit(s, 3));
-        everyState("FXa", s -> Due.bit(s, 4) || Due.bit(s, 3));
-        everyState("GFXGFa", s -> Due.bit(s, 3) && (Due.bit(s, 4) || Due.bit(s, 5)));
-        everyState("!XXXXXa", s -> !Due.bit(s, 3));
-        everyState("(Xa)>(Xb)&(Xc)", s -> !Due.bit(s, 3) || Due.bit(s, 4) && Due.bit(s, 5));
+        Due.everyIsAt("Xa", s -> Due.bit(s, 3));
+        Due.everyIsAt("Fa", s -> Due.bit(s, 0) || Due.bit(s, 3));
+        Due.everyIsAt("Gb", s -> Due.bit(s, 1) && Due.bit(s, 3));
+        Due.everyIsAt("aUb", s -> Due.bit(s, 1) || Due.bit(s, 0) && Due.bit(s, 3));
+        Due.everyIsAt("aRb", s -> Due.bit(s, 1) && (Due.bit(s, 0) || Due.bit(s, 3)));
+        Due.everyIsAt("XFa", s -> Due.bit(s, 3));
+        Due.everyIsAt("FXa", s -> Due.bit(s, 4) || Due.bit(s, 3));
+        Due.everyIsAt("GFXGFa", s -> Due.bit(s, 3) && (Due.bit(s, 4) || Due.bit(s, 5)));
+        Due.everyIsAt("!XXXXXa", s -> !Due.bit(s, 3));
+        Due.everyIsAt("(Xa)>(Xb)&(Xc)", s -> !Due.bit(s, 3) || Due.bit(s, 4) && Due.bit(s, 5));
     }
 
     private static void isAtPrecedence() {
-        everyState("a>b>c", s -> !Due.bit(s, 0) || !Due.bit(s, 1) || Due.bit(s, 2));
-        everyState("(a>b)>c", s -> Due.bit(s, 0) && !Due.bit(s, 1) || Due.bit(s, 2));
-        everyState("a|b&c", s -> Due.bit(s, 0) || Due.bit(s, 1) && Due.bit(s, 2));
-        everyState("a&b|c", s -> Due.bit(s, 0) && Due.bit(s, 1) || Due.bit(s, 2));
-        everyState("(a|b)&c", s -> (Due.bit(s, 0) || Due.bit(s, 1)) && Due.bit(s, 2));
-        everyState("a|b>c", s -> !(Due.bit(s, 0) || Due.bit(s, 1)) || Due.bit(s, 2));
-        everyState("a>b|c", s -> !Due.bit(s, 0) || Due.bit(s, 1) || Due.bit(s, 2));
-        everyState("!a|b", s -> !Due.bit(s, 0) || Due.bit(s, 1));
-        everyState("aUbRc", s -> Due.bit(s, 2) && (Due.bit(s, 1) || Due.bit(s, 4)) || Due.bit(s, 0) && Due.bit(s, 3));
-        everyState("(aUb)Rc", s -> Due.bit(s, 2) && (Due.bit(s, 1) || Due.bit(s, 0) && Due.bit(s, 3) || Due.bit(s, 4)));
-        everyState("aRbUc", s -> (Due.bit(s, 2) || Due.bit(s, 1) && Due.bit(s, 4)) && (Due.bit(s, 0) || Due.bit(s, 3)));
-        everyState("FaUGb", s -> Due.bit(s, 1) && Due.bit(s, 5) || (Due.bit(s, 0) || Due.bit(s, 3)) && Due.bit(s, 4));
-        everyState("F(aUb)", s -> Due.bit(s, 1) || Due.bit(s, 0) && Due.bit(s, 4) || Due.bit(s, 3));
-        everyState("aUb&c", s -> (Due.bit(s, 1) || Due.bit(s, 0) && Due.bit(s, 3)) && Due.bit(s, 2));
-        everyState("aU(b&c)", s -> Due.bit(s, 1) && Due.bit(s, 2) || Due.bit(s, 0) && Due.bit(s, 3));
-        everyState("a|bUc", s -> Due.bit(s, 0) || Due.bit(s, 2) || Due.bit(s, 1) && Due.bit(s, 3));
-        everyState("!aUb", s -> Due.bit(s, 1) || !Due.bit(s, 0) && Due.bit(s, 3));
-    }
-
-    private static void everyState(String line, IntPredicate so) {
-        LassoDesk desk = Due.deskOf(line);
-        int states = desk.states();
-        for (int s = 0; s < states; s++) {
-            Due.due(line + " at " + s, desk.isAt(s), so.test(s));
-        }
+        Due.everyIsAt("a>b>c", s -> !Due.bit(s, 0) || !Due.bit(s, 1) || Due.bit(s, 2));
+        Due.everyIsAt("(a>b)>c", s -> Due.bit(s, 0) && !Due.bit(s, 1) || Due.bit(s, 2));
+        Due.everyIsAt("a|b&c", s -> Due.bit(s, 0) || Due.bit(s, 1) && Due.bit(s, 2));
+        Due.everyIsAt("a&b|c", s -> Due.bit(s, 0) && Due.bit(s, 1) || Due.bit(s, 2));
+        Due.everyIsAt("(a|b)&c", s -> (Due.bit(s, 0) || Due.bit(s, 1)) && Due.bit(s, 2));
+        Due.everyIsAt("a|b>c", s -> !(Due.bit(s, 0) || Due.bit(s, 1)) || Due.bit(s, 2));
+        Due.everyIsAt("a>b|c", s -> !Due.bit(s, 0) || Due.bit(s, 1) || Due.bit(s, 2));
+        Due.everyIsAt("!a|b", s -> !Due.bit(s, 0) || Due.bit(s, 1));
+        Due.everyIsAt("aUbRc", s -> Due.bit(s, 2) && (Due.bit(s, 1) || Due.bit(s, 4)) || Due.bit(s, 0) && Due.bit(s, 3));
+        Due.everyIsAt("(aUb)Rc", s -> Due.bit(s, 2) && (Due.bit(s, 1) || Due.bit(s, 0) && Due.bit(s, 3) || Due.bit(s, 4)));
+        Due.everyIsAt("aRbUc", s -> (Due.bit(s, 2) || Due.bit(s, 1) && Due.bit(s, 4)) && (Due.bit(s, 0) || Due.bit(s, 3)));
+        Due.everyIsAt("FaUGb", s -> Due.bit(s, 1) && Due.bit(s, 5) || (Due.bit(s, 0) || Due.bit(s, 3)) && Due.bit(s, 4));
+        Due.everyIsAt("F(aUb)", s -> Due.bit(s, 1) || Due.bit(s, 0) && Due.bit(s, 4) || Due.bit(s, 3));
+        Due.everyIsAt("aUb&c", s -> (Due.bit(s, 1) || Due.bit(s, 0) && Due.bit(s, 3)) && Due.bit(s, 2));
+        Due.everyIsAt("aU(b&c)", s -> Due.bit(s, 1) && Due.bit(s, 2) || Due.bit(s, 0) && Due.bit(s, 3));
+        Due.everyIsAt("a|bUc", s -> Due.bit(s, 0) || Due.bit(s, 2) || Due.bit(s, 1) && Due.bit(s, 3));
+        Due.everyIsAt("!aUb", s -> Due.bit(s, 1) || !Due.bit(s, 0) && Due.bit(s, 3));
     }
 
     private static void isAtWrong() {
@@ -277,33 +267,25 @@ public final class PromisesTest {
     // ---- 7, 8
 
     private static void lasts() {
-        everyLasts("a", s -> true);
-        everyLasts("Fa", s -> true);
-        everyLasts("Ga", s -> true);
-        everyLasts("aUb", s -> true);
-        everyLasts("aRb", s -> true);
-        everyLasts("XXa", s -> true);
-        everyLasts("F0", s -> !Due.bit(s, 3));
-        everyLasts("G1", s -> Due.bit(s, 3));
-        everyLasts("aU0", s -> !Due.bit(s, 3));
-        everyLasts("aR1", s -> Due.bit(s, 3));
-        everyLasts("X1", s -> Due.bit(s, 3));
-        everyLasts("X0", s -> !Due.bit(s, 3));
-        everyLasts("X(a&!a)", s -> !Due.bit(s, 3));
-        everyLasts("Fa&G!a", s -> Due.bit(s, 3) != Due.bit(s, 4));
-        everyLasts("XX0", s -> !Due.bit(s, 3) && !Due.bit(s, 4));
+        Due.everyLasts("a", s -> true);
+        Due.everyLasts("Fa", s -> true);
+        Due.everyLasts("Ga", s -> true);
+        Due.everyLasts("aUb", s -> true);
+        Due.everyLasts("aRb", s -> true);
+        Due.everyLasts("XXa", s -> true);
+        Due.everyLasts("F0", s -> !Due.bit(s, 3));
+        Due.everyLasts("G1", s -> Due.bit(s, 3));
+        Due.everyLasts("aU0", s -> !Due.bit(s, 3));
+        Due.everyLasts("aR1", s -> Due.bit(s, 3));
+        Due.everyLasts("X1", s -> Due.bit(s, 3));
+        Due.everyLasts("X0", s -> !Due.bit(s, 3));
+        Due.everyLasts("X(a&!a)", s -> !Due.bit(s, 3));
+        Due.everyLasts("Fa&G!a", s -> Due.bit(s, 3) != Due.bit(s, 4));
+        Due.everyLasts("XX0", s -> !Due.bit(s, 3) && !Due.bit(s, 4));
         LassoDesk desk = Due.deskOf("Fa");
         Due.outside("lasts(-1)", () -> desk.lasts(-1));
         Due.outside("lasts(16)", () -> desk.lasts(16));
         Due.outside("lasts(MIN_VALUE)", () -> desk.lasts(Integer.MIN_VALUE));
-    }
-
-    private static void everyLasts(String line, IntPredicate so) {
-        LassoDesk desk = Due.deskOf(line);
-        int states = desk.states();
-        for (int s = 0; s < states; s++) {
-            Due.due(line + " lasts " + s, desk.lasts(s), so.test(s));
-        }
     }
 
     private static void lasting() {

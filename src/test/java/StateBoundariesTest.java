@@ -56,12 +56,12 @@ public final class StateBoundariesTest {
     }
 
     private static void bitsOfStates() {
-        everyIsAt("a&!b&!c", s -> (s & 7) == 1);
-        everyIsAt("!a&b&!c", s -> (s & 7) == 2);
-        everyIsAt("!a&!b&c", s -> (s & 7) == 4);
-        everyIsAt("Xa", s -> Due.bit(s, 3));
-        everyIsAt("1&XXXXXa", s -> Due.bit(s, 3));
-        everyIsAt("!Xa&!Xb&!Xc&!X1&X0", s -> s >> 3 == 16);
+        Due.everyIsAt("a&!b&!c", s -> (s & 7) == 1);
+        Due.everyIsAt("!a&b&!c", s -> (s & 7) == 2);
+        Due.everyIsAt("!a&!b&c", s -> (s & 7) == 4);
+        Due.everyIsAt("Xa", s -> Due.bit(s, 3));
+        Due.everyIsAt("1&XXXXXa", s -> Due.bit(s, 3));
+        Due.everyIsAt("!Xa&!Xb&!Xc&!X1&X0", s -> s >> 3 == 16);
     }
 
     private static void leadsToItself() {
@@ -123,70 +123,70 @@ public final class StateBoundariesTest {
     }
 
     private static void openAndKeptOfF() {
-        everyLasts("Fa", s -> true);
-        everyLasts("F0", s -> !Due.bit(s, 3));
-        everyLasts("F1", s -> Due.bit(s, 3));
-        everyLasts("FFa", s -> Due.bit(s, 3) == Due.bit(s, 4));
+        Due.everyLasts("Fa", s -> true);
+        Due.everyLasts("F0", s -> !Due.bit(s, 3));
+        Due.everyLasts("F1", s -> Due.bit(s, 3));
+        Due.everyLasts("FFa", s -> Due.bit(s, 3) == Due.bit(s, 4));
     }
 
     private static void openAndKeptOfU() {
-        everyLasts("aUb", s -> true);
-        everyLasts("aU0", s -> !Due.bit(s, 3));
-        everyLasts("1U0", s -> !Due.bit(s, 3));
-        everyLasts("0U1", s -> Due.bit(s, 3));
-        everyLasts("1U1", s -> Due.bit(s, 3));
+        Due.everyLasts("aUb", s -> true);
+        Due.everyLasts("aU0", s -> !Due.bit(s, 3));
+        Due.everyLasts("1U0", s -> !Due.bit(s, 3));
+        Due.everyLasts("0U1", s -> Due.bit(s, 3));
+        Due.everyLasts("1U1", s -> Due.bit(s, 3));
     }
 
     private static void openAndKeptOfG() {
-        everyLasts("Ga", s -> true);
-        everyLasts("G1", s -> Due.bit(s, 3));
-        everyLasts("G0", s -> !Due.bit(s, 3));
-        everyLasts("GGa", s -> Due.bit(s, 3) == Due.bit(s, 4));
+        Due.everyLasts("Ga", s -> true);
+        Due.everyLasts("G1", s -> Due.bit(s, 3));
+        Due.everyLasts("G0", s -> !Due.bit(s, 3));
+        Due.everyLasts("GGa", s -> Due.bit(s, 3) == Due.bit(s, 4));
     }
 
     private static void openAndKeptOfR() {
-        everyLasts("aRb", s -> true);
-        everyLasts("aR1", s -> Due.bit(s, 3));
-        everyLasts("0R1", s -> Due.bit(s, 3));
-        everyLasts("1R0", s -> !Due.bit(s, 3));
-        everyLasts("0R0", s -> !Due.bit(s, 3));
+        Due.everyLasts("aRb", s -> true);
+        Due.everyLasts("aR1", s -> Due.bit(s, 3));
+        Due.everyLasts("0R1", s -> Due.bit(s, 3));
+        Due.everyLasts("1R0", s -> !Due.bit(s, 3));
+        Due.everyLasts("0R0", s -> !Due.bit(s, 3));
     }
 
     private static void largestSet() {
-        everyLasts("a", s -> true);
-        everyLasts("0", s -> true);
-        everyLasts("XXXXXa", s -> true);
-        everyLasts("Fa&Gb&aUc", s -> true);
+        Due.everyLasts("a", s -> true);
+        Due.everyLasts("0", s -> true);
+        Due.everyLasts("XXXXXa", s -> true);
+        Due.everyLasts("Fa&Gb&aUc", s -> true);
     }
 
     private static void leadsToOneOfTheSet() {
-        everyLasts("X0", s -> !Due.bit(s, 3));
-        everyLasts("X1", s -> Due.bit(s, 3));
-        everyLasts("XX1", s -> Due.bit(s, 3) && Due.bit(s, 4));
-        everyLasts("XXXXX0", s -> s < 8);
-        everyLasts("XXXXX1", s -> s >= 248);
-        everyLasts("X(a&!a)", s -> !Due.bit(s, 3));
-        everyLasts("Xa&X!a", s -> Due.bit(s, 3) != Due.bit(s, 4));
-        everyLasts("X!Xa", s -> true);
-        everyLasts("F(a|b|c)", s -> true);
-        everyLasts("G(a&b&c)", s -> true);
+        Due.everyLasts("X0", s -> !Due.bit(s, 3));
+        Due.everyLasts("X1", s -> Due.bit(s, 3));
+        Due.everyLasts("XX1", s -> Due.bit(s, 3) && Due.bit(s, 4));
+        Due.everyLasts("XXXXX0", s -> s < 8);
+        Due.everyLasts("XXXXX1", s -> s >= 248);
+        Due.everyLasts("X(a&!a)", s -> !Due.bit(s, 3));
+        Due.everyLasts("Xa&X!a", s -> Due.bit(s, 3) != Due.bit(s, 4));
+        Due.everyLasts("X!Xa", s -> true);
+        Due.everyLasts("F(a|b|c)", s -> true);
+        Due.everyLasts("G(a&b&c)", s -> true);
     }
 
     private static void everyPromiseThatIsOpen() {
-        everyLasts("F0|Fa", s -> !Due.bit(s, 3));
-        everyLasts("Fa|F0", s -> !Due.bit(s, 4));
-        everyLasts("Fa&G!a", s -> Due.bit(s, 3) != Due.bit(s, 4));
-        everyLasts("Fa&Fa&Fa&Fa&F0", s -> s < 8 || s >> 3 == 15);
-        everyLasts("F0&Fa&Fa&Fa&Fa", s -> s < 8 || s >> 3 == 30);
+        Due.everyLasts("F0|Fa", s -> !Due.bit(s, 3));
+        Due.everyLasts("Fa|F0", s -> !Due.bit(s, 4));
+        Due.everyLasts("Fa&G!a", s -> Due.bit(s, 3) != Due.bit(s, 4));
+        Due.everyLasts("Fa&Fa&Fa&Fa&F0", s -> s < 8 || s >> 3 == 15);
+        Due.everyLasts("F0&Fa&Fa&Fa&Fa", s -> s < 8 || s >> 3 == 30);
     }
 
     private static void withinTheSet() {
-        everyLasts("FX0", s -> s < 8);
-        everyLasts("GX1", s -> s >= 24);
-        everyLasts("F(a&X!a&Xa)", s -> Due.bit(s, 4) != Due.bit(s, 5) && !Due.bit(s, 3));
-        everyLasts("F(a&F0)", s -> s < 8);
-        everyLasts("FG(a&b&c)", s -> !Due.bit(s, 4) || Due.bit(s, 3));
-        everyLasts("GF(a|b|c)", s -> !Due.bit(s, 3) || Due.bit(s, 4));
+        Due.everyLasts("FX0", s -> s < 8);
+        Due.everyLasts("GX1", s -> s >= 24);
+        Due.everyLasts("F(a&X!a&Xa)", s -> Due.bit(s, 4) != Due.bit(s, 5) && !Due.bit(s, 3));
+        Due.everyLasts("F(a&F0)", s -> s < 8);
+        Due.everyLasts("FG(a&b&c)", s -> !Due.bit(s, 4) || Due.bit(s, 3));
+        Due.everyLasts("GF(a|b|c)", s -> !Due.bit(s, 3) || Due.bit(s, 4));
     }
 
     private static void keptAtThatOneItself() {
@@ -202,13 +202,13 @@ public final class StateBoundariesTest {
 
     private static void statesWithoutFormula() {
         Due.noState("states()", () -> new LassoDesk().states());
-        Due.noState("states() behind a refused line", () -> refused().states());
+        Due.noState("states() behind a refused line", () -> Due.refused().states());
     }
 
     private static void isAtWithoutFormula() {
         for (int state : new int[] {0, 7, 8, -1, Integer.MAX_VALUE}) {
             Due.noState("isAt(" + state + ")", () -> new LassoDesk().isAt(state));
-            Due.noState("isAt(" + state + ") behind a refused line", () -> refused().isAt(state));
+            Due.noState("isAt(" + state + ") behind a refused line", () -> Due.refused().isAt(state));
         }
     }
 
@@ -231,7 +231,7 @@ public final class StateBoundariesTest {
         for (int state : new int[] {0, 8, -1, Integer.MAX_VALUE}) {
             Due.noState("leads(" + state + ", 0)", () -> new LassoDesk().leads(state, 0));
             Due.noState("leads(0, " + state + ")", () -> new LassoDesk().leads(0, state));
-            Due.noState("leads(0, " + state + ") behind a refused line", () -> refused().leads(0, state));
+            Due.noState("leads(0, " + state + ") behind a refused line", () -> Due.refused().leads(0, state));
         }
     }
 
@@ -255,7 +255,7 @@ public final class StateBoundariesTest {
     private static void lastsWithoutFormula() {
         for (int state : new int[] {0, 8, -1, Integer.MAX_VALUE}) {
             Due.noState("lasts(" + state + ")", () -> new LassoDesk().lasts(state));
-            Due.noState("lasts(" + state + ") behind a refused line", () -> refused().lasts(state));
+            Due.noState("lasts(" + state + ") behind a refused line", () -> Due.refused().lasts(state));
         }
     }
 
@@ -293,7 +293,7 @@ public final class StateBoundariesTest {
 
     private static void lastingWithoutFormula() {
         Due.noState("lasting()", () -> new LassoDesk().lasting());
-        Due.noState("lasting() behind a refused line", () -> refused().lasting());
+        Due.noState("lasting() behind a refused line", () -> Due.refused().lasting());
     }
 
     private static void promisesNoneAndFive() {
@@ -309,35 +309,12 @@ public final class StateBoundariesTest {
 
     private static void promisesWithoutFormula() {
         Due.noState("promises()", () -> new LassoDesk().promises());
-        Due.noState("promises() behind a refused line", () -> refused().promises());
+        Due.noState("promises() behind a refused line", () -> Due.refused().promises());
     }
 
     // ---- helpers
 
-    private static LassoDesk refused() {
-        LassoDesk desk = new LassoDesk();
-        Due.typeAll(desk, "Fa&");
-        Due.illegal("formula() of Fa&", desk::formula);
-        return desk;
-    }
-
     private static int[] beyond(int states) {
         return new int[] {-1, states, states + 1, 256, -states, Integer.MIN_VALUE, Integer.MAX_VALUE};
-    }
-
-    private static void everyIsAt(String line, IntPredicate so) {
-        LassoDesk desk = Due.deskOf(line);
-        int states = desk.states();
-        for (int s = 0; s < states; s++) {
-            Due.due(line + " at " + s, desk.isAt(s), so.test(s));
-        }
-    }
-
-    private static void everyLasts(String line, IntPredicate so) {
-        LassoDesk desk = Due.deskOf(line);
-        int states = desk.states();
-        for (int s = 0; s < states; s++) {
-            Due.due(line + " lasts " + s, desk.lasts(s), so.test(s));
-        }
     }
 }

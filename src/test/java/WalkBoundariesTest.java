@@ -203,7 +203,7 @@ public final class WalkBoundariesTest {
 
     private static void canWithoutFormula() {
         Due.noState("can()", () -> new LassoDesk().can());
-        Due.noState("can() behind a refused line", () -> refused().can());
+        Due.noState("can() behind a refused line", () -> Due.refused().can());
     }
 
     private static void stemNone() {
@@ -219,7 +219,7 @@ public final class WalkBoundariesTest {
 
     private static void stemWithoutFormula() {
         Due.noState("stem()", () -> new LassoDesk().stem());
-        Due.noState("stem() behind a refused line", () -> refused().stem());
+        Due.noState("stem() behind a refused line", () -> Due.refused().stem());
     }
 
     private static void loopNone() {
@@ -235,7 +235,7 @@ public final class WalkBoundariesTest {
 
     private static void loopWithoutFormula() {
         Due.noState("loop()", () -> new LassoDesk().loop());
-        Due.noState("loop() behind a refused line", () -> refused().loop());
+        Due.noState("loop() behind a refused line", () -> Due.refused().loop());
     }
 
     private static void stepFrom0() {
@@ -248,7 +248,7 @@ public final class WalkBoundariesTest {
     private static void stepWithoutFormula() {
         for (int k : new int[] {0, 1, -1, Integer.MIN_VALUE, Integer.MAX_VALUE}) {
             Due.noState("step(" + k + ")", () -> new LassoDesk().step(k));
-            Due.noState("step(" + k + ") behind a refused line", () -> refused().step(k));
+            Due.noState("step(" + k + ") behind a refused line", () -> Due.refused().step(k));
         }
     }
 
@@ -371,7 +371,7 @@ public final class WalkBoundariesTest {
         Due.giveWord(desk, 1, 3, 0, 5);
         Due.noState("adopt()", desk::adopt);
         Due.wordIs(desk, 1, 3, 0, 5);
-        Due.noState("adopt() behind a refused line", () -> refused().adopt());
+        Due.noState("adopt() behind a refused line", () -> Due.refused().adopt());
     }
 
     /** Whichever call comes first behind formula(), its answer is the same. */
@@ -383,12 +383,5 @@ public final class WalkBoundariesTest {
         Due.due("loop()", Due.deskOf("XXa").loop(), 1);
         Due.due("step(2)", Due.deskOf("XXa").step(2), 1);
         Due.due("adopt()", Due.deskOf("XXa").adopt(), true);
-    }
-
-    private static LassoDesk refused() {
-        LassoDesk desk = new LassoDesk();
-        Due.typeAll(desk, "Fa&");
-        Due.illegal("formula() of Fa&", desk::formula);
-        return desk;
     }
 }

@@ -365,10 +365,7 @@ public final class WordBoundariesTest {
         for (int k : new int[] {0, 1, MAX, -1, MIN}) {
             Due.noState("holds(" + k + ")", () -> new LassoDesk().holds(k));
         }
-        LassoDesk desk = new LassoDesk();
-        Due.typeAll(desk, "Fa&");
-        Due.illegal("formula() of Fa&", desk::formula);
-        Due.noState("holds(0) behind a refused line", () -> desk.holds(0));
+        Due.noState("holds(0) behind a refused line", () -> Due.refused().holds(0));
     }
 
     private static void holdsBelow0() {
